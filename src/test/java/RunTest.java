@@ -1,0 +1,401 @@
+/** Promises 5, 6, 7 and 9, Terms 5: begin, go, OUTPUT, MEMORY, ROUNDS and TRAPS. */
+public final class RunTest {
+    public static void main(String[] args) {
+        Bench b = new Bench();
+        begins(b);
+        goes(b);
+        rounds(b);
+        output(b);
+        memory(b);
+        values(b);
+        control(b);
+        order(b);
+        addressTraps(b);
+        alignedTraps(b);
+        zeroTraps(b);
+        structCopies(b);
+        reads(b);
+        deep(b);
+        b.close();
+    }
+
+    private static void begins(Bench b) {
+        WordFoundry x = b.fresh();
+        Bench.cast(x, "int a = 7; char *t = \"hi\"; int main() { int z[64]; a = 9; put('x'); z[0] = 5; return a; }");
+        int[] wrong = {0, -4, 1020, 1022, 1025, 1026, 1027, 65540, 65537, Integer.MAX_VALUE, Integer.MIN_VALUE};
+        for (int size : wrong) {
+            b.due("begin " + size, x.begin(size), false);
+        }
+        b.due("still cast", x.look(1), 1);
+        b.due("begin 1024", x.begin(1024), true);
+        b.due("stands", x.look(1), 2);
+        b.due("frames", x.look(6), 1);
+        b.due("rounds", x.look(4), 0);
+        b.due("size", x.look(12), 1024);
+        b.due("least SP", x.look(7), 1024 - 256);
+        b.due("a", x.peek(64), 7);
+        b.due("t", x.peek(68), 72);
+        b.due("h", x.peek(72), 'h');
+        b.due("0 behind", x.peek(74), 0);
+        b.due("go", x.go(1), 1);
+        b.due("a later", x.peek(64), 9);
+        b.due("sent", x.look(5), 1);
+        b.due("wrong begin does nothing", x.begin(3), false);
+        b.due("still ended", x.look(1), 3);
+        b.due("begin anew", x.begin(65536), true);
+        b.due("a anew", x.peek(64), 7);
+        b.due("no OUTPUT", x.look(5), 0);
+        b.due("no out", x.out(0), -1);
+        b.due("result", x.look(2), 0);
+        b.due("in a larger MEMORY", x.look(7), 65536 - 256);
+        x.go(1);
+        x.begin(1024);
+        b.due("stale bytes are gone", x.peek(768), 0);
+        b.due("a fault takes the program", Bench.cast(x, "int"), 16 * 3 + 2);
+        b.due("no program", x.begin(1024), false);
+        b.due("no memory", x.peek(64), -1);
+        fit(b, 1024 - 64, true);
+        fit(b, 1024 - 60, false);
+        WordFoundry y = b.fresh();
+        Bench.cast(y, "char a[960]; int main() { int b; }");
+        b.due("no room for a FRAME", y.begin(1024), false);
+        b.due("nothing was done", y.look(12), 0);
+        b.due("room for it", y.begin(1028), true);
+        Bench.cast(y, "char a[2000]; int main() { }");
+        b.due("no room for DATA", y.begin(1024), false);
+    }
+
+    private static void fit(Bench b, int bytes, boolean fits) {
+        WordFoundry x = b.fresh();
+        Bench.cast(x, "int main() { char a[" + bytes + "]; }");
+        b.due("main's FRAME of " + bytes, x.begin(1024), fits);
+    }
+
+    private static void goes(Bench b) {
+        WordFoundry x = b.fresh();
+        b.due("go without a program", x.go(1), -1);
+        Bench.cast(x, "int main() { while (1) put('a'); }");
+        b.due("go ahead of begin", x.go(1), -1);
+        x.begin(1024);
+        int[] wrong = {-1, 1001, Integer.MAX_VALUE, Integer.MIN_VALUE};
+        for (int n : wrong) {
+            b.due("go " + n, x.go(n), -1);
+        }
+        b.due("go 0", x.go(0), 0);
+        b.due("go 0 does nothing", x.look(5), 0);
+        b.due("go 1", x.go(1), 1);
+        b.due("main's ROUND only", x.look(5), 0);
+        b.due("go 3", x.go(3), 3);
+        b.due("three bodies", x.look(5), 3);
+        b.due("rounds", x.look(4), 4);
+        b.due("go 0 again", x.go(0), 0);
+        b.due("go 1000", x.go(1000), 1000);
+        b.due("rounds", x.look(4), 1004);
+        b.due("it stands", x.look(1), 2);
+        Bench.cast(x, "int main() { return 5; }");
+        x.begin(1024);
+        b.due("it ends", x.go(7), 1);
+        b.due("none stands", x.go(7), -1);
+        b.due("ended with", x.look(2), 5);
+        b.due("no trap's place", x.look(3), -1);
+        b.due("rounds stay", x.look(4), 1);
+        b.due("no frames", x.look(6), 0);
+        b.due("least SP stays", x.look(7), 1024);
+        Bench.cast(x, "int main() { *(int *) 0 = 1; }");
+        x.begin(1024);
+        b.due("it traps", x.go(7), 1);
+        b.due("none stands", x.go(7), -1);
+        b.due("frames stay", x.look(6), 1);
+    }
+
+    /** How many ROUNDS a text has in all. */
+    private static void rounds(Bench b, int count, String text) {
+        WordFoundry x = b.fresh();
+        b.due(text, Bench.cast(x, text), 0);
+        x.begin(1024);
+        Bench.run(x);
+        b.due("rounds of " + text, x.look(4), count);
+    }
+
+    private static void rounds(Bench b) {
+        rounds(b, 1, "int main() { }");
+        rounds(b, 1, "int main() { { ; } if (1) ; switch (1) { case 1: ; } put(1); get(); }");
+        rounds(b, 1, "int main() { while (0) ; for (; 0; ) ; }");
+        rounds(b, 2, "int main() { do ; while (0); }");
+        rounds(b, 4, "int main() { int i = 3; while (i--) ; }");
+        rounds(b, 4, "int main() { for (int i = 0; i < 3; i++) if (i) continue; }");
+        rounds(b, 3, "int main() { for (int i = 0; ; i++) if (i) break; }");
+        rounds(b, 4, "int f() { } int main() { f(); f(); f(); }");
+        rounds(b, 2, "int f() { halt(1); } int main() { f(); f(); f(); }");
+        rounds(b, 1, "int f() { } int main() { sizeof f(); 0 && f(); 1 || f(); 1 ? 0 : f(); }");
+        rounds(b, 10, "int main() { int i = 3; do { int k = 2; do ; while (--k); } while (--i); }");
+    }
+
+    private static void output(Bench b) {
+        WordFoundry x = b.fresh();
+        Bench.cast(x, "int main() { for (int i = 0; i < 5000; i++) put(i); put(-1); put(0x1234); }");
+        x.begin(1024);
+        Bench.run(x);
+        b.due("sent", x.look(5), 5002);
+        b.due("out -1", x.out(-1), -1);
+        b.due("out 0", x.out(0), 0);
+        b.due("out 255", x.out(255), 255);
+        b.due("out 256", x.out(256), 0);
+        b.due("out 4095", x.out(4095), 255);
+        b.due("out 4096", x.out(4096), -1);
+        b.due("out 5000", x.out(5000), -1);
+        Bench.cast(x, "int main() { put(300); put(-2); }");
+        b.due("gone with a cast", x.out(0), -1);
+        b.due("none sent", x.look(5), 0);
+        x.begin(1024);
+        b.due("ahead of the ROUND", x.out(0), -1);
+        x.go(1);
+        b.due("its lowest byte", x.out(0), 44);
+        b.due("of -2", x.out(1), 254);
+        b.due("no third one", x.out(2), -1);
+        b.ends(-1, "int main() { return get(); }", "");
+        b.ends(255, "int main() { return get(); }", "\u00ff");
+        b.ends(3 * 256 + 2, "int main() { int a = get(); int b = get(); return a + b * 256 + (get() + 1); }", "\u0002\u0003");
+        b.ends(-9, "int f() { halt(-9); return 1; } int main() { f(); put(1); return 2; }");
+        b.ends(0, "void main() { }");
+        b.ends(0, "int main() { if (get() == 5) return 1; }");
+    }
+
+    private static void memory(Bench b) {
+        WordFoundry x = b.fresh();
+        Bench.cast(x, "char a = 1; int b = 0x01020304; char c[3] = {9, 8}; unsigned d = 0xfffefdfc; char e[] = \"xy\"; "
+            + "char *s = \"q\"; int *p = &b; int main() { char m = 7; int n = 0x11223344; char *t = \"rs\"; return t - s; }");
+        x.begin(1024);
+        int[] due = {1, 0, 0, 0, 4, 3, 2, 1, 9, 8, 0, 0, 0xfc, 0xfd, 0xfe, 0xff, 'x', 'y', 0, 0, 92, 0, 0, 0, 68, 0, 0, 0, 'q', 0, 'r', 's', 0, 0};
+        for (int i = 0; i < due.length; i++) {
+            b.due("peek " + (64 + i), x.peek(64 + i), due[i]);
+        }
+        b.due("peek -1", x.peek(-1), -1);
+        b.due("peek 0", x.peek(0), 0);
+        b.due("peek 63", x.peek(63), 0);
+        b.due("peek 1023", x.peek(1023), 0);
+        b.due("peek 1024", x.peek(1024), -1);
+        b.due("peek at the least", x.peek(Integer.MIN_VALUE), -1);
+        b.due("end of DATA", x.look(8), 100);
+        x.go(1);
+        b.due("m", x.peek(1012), 7);
+        b.due("n 0", x.peek(1016), 0x44);
+        b.due("n 3", x.peek(1019), 0x11);
+        b.due("t", x.peek(1020), 94);
+        b.due("t - s", x.look(2), 2);
+        // What isn't told lies as it was left.
+        b.ends(77, "int f() { int a = 77; return a; } int g() { int b; return b; } int main() { f(); return g(); }");
+        b.ends(0, "int g() { int b; return b; } int main() { return g(); }");
+        b.ends(3, "int main() { int r = 0; for (int i = 0; i < 3; i++) { int k = 0; k++; r += k; } return r; }");
+        b.ends(6, "int main() { int r = 0; for (int i = 0; i < 3; i++) { int k; if (!i) k = 0; k++; r += k; } return r; }");
+        b.ends(5, "int main() { int r = 5; switch (1) { int k = 9; case 1: r += k; } return r; }");
+    }
+
+    private static void values(Bench b) {
+        b.ends(44, "int main() { char c = 300; return c; }");
+        b.ends(44, "int main() { char c; return c = 300; }");
+        b.ends(255, "int main() { char c = 0; return --c; }");
+        b.ends(0, "int main() { char c = 255; return ++c; }");
+        b.ends(255, "int main() { char c = 255; return c++; }");
+        b.ends(4, "int main() { char c = 250; c += 10; return c; }");
+        b.ends(44, "char f() { return 300; } int main() { return f(); }");
+        b.ends(44, "int f(char c) { return c; } int main() { return f(300); }");
+        b.ends(1, "int main() { unsigned u = 1; int i = -1; return i > u && i / u == 0xffffffff && (i >> 1) == -1 && (u - 2) >> 31 == 1; }");
+        b.ends(1, "int main() { int i = -6; unsigned u = 4; i /= u; return i == 0xfffffffa / 4; }");
+        b.ends(-3, "int main() { int i = -6; unsigned u = 1; i >>= u; return i; }");
+        b.ends(12, "int a[5]; int main() { int *p = a; p++; p += 3; p -= 1; return (char *) p - (char *) a; }");
+        b.ends(3, "int a[5]; int main() { int *p = &a[4]; return p - (a + 1); }");
+        b.ends(-3, "int a[5]; int main() { return &a[1] - &a[4]; }");
+        b.ends(-1, "struct A { int a[3]; }; struct A s[4]; int main() { return (struct A *) ((char *) s - 23) - s; }");
+        b.ends(1, "int m[3][4]; int main() { m[2][1] = 5; return *(*(m + 2) + 1) == 5 && &m[1] - &m[0] == 1 && (char *) &m[1] - (char *) m == 16; }");
+        b.ends(1, "int main() { int *p = (int *) 0x80000000; return p > (int *) 4 && p - (int *) 4 == 536870911 && (int *) 4 - p == -536870911; }");
+        b.ends(7, "struct A { struct A *n; int v; }; struct A a, c; int main() { a.n = &c; c.n = &a; a.n->n->n->v = 7; return c.v; }");
+        b.ends('b', "int main() { return \"abc\"[1]; }");
+        b.ends(3, "int main() { int a = 1, b = 2; int *p = &a; int **q = &p; **q += b; return a; }");
+        b.ends(2, "int f(int a[], int b[2][2]) { return a[1] + b[1][0]; } int x[2] = {0, 2}; int y[2][2]; int main() { return f(x, y); }");
+        b.ends(9, "int main() { char far[3000]; int a = 4; int c = 5; return a + c; }");
+        b.ends(6, "char far[1000]; struct A { char f[2500]; int v; }; struct A a; struct A *p = &a; int main() { a.v = 2; p->v += 4; return a.v; }");
+        b.ends(1, "int main() { return !0 == 1 && !5 == 0 && -(-5) == 5 && ~~7 == 7 && !\"a\" == 0; }");
+        b.ends(36, "int f(int a, int b, int c, int d, int e, int g, int h, int i) { return a + b + c + d + e + g + h + i; } int main() { return f(1, 2, 3, 4, 5, 6, 7, 8); }");
+        b.ends(120, "int f(unsigned n) { return n ? n * f(n - 1) : 1; } int main() { return f(5); }");
+    }
+
+    private static void control(Bench b) {
+        b.ends(15, "int main() { int r = 0; switch (2) { case 1: r += 1; case 2: r += 5; case 3: r += 10; break; default: r += 100; } return r; }");
+        b.ends(100, "int main() { int r = 0; switch (9) { case 1: r += 1; break; default: r += 100; } return r; }");
+        b.ends(101, "int main() { int r = 0; switch (9) { default: r += 100; case 1: r += 1; } return r; }");
+        b.ends(0, "int main() { int r = 0; switch (9) { r = 5; case 1: r += 1; } return r; }");
+        b.ends(4, "int main() { unsigned u = 0xffffffff; switch (u) { case -1: return 4; } return 5; }");
+        b.ends(3, "int main() { int i = 0; while (1) { switch (i) { case 3: return i; default: i++; continue; } i = 50; } }");
+        b.ends(6, "int main() { int i = 0; int n = 0; do { i++; if (i == 2) continue; n += i; if (i == 3) break; } while (i < 9); return n + 2; }");
+        b.ends(5, "int main() { int a = 0; if (1) if (0) a = 1; else a = 5; return a; }");
+        b.ends(13, "int main() { int r = 0; for (int i = 0; i < 10; i++) { if (i % 2) continue; if (i > 6) break; r += i; } return r + 1; }");
+        b.ends(2, "int main() { int i; for (i = 0; i < 5; i++) { for (;;) break; if (i == 2) return i; } return 9; }");
+    }
+
+    /** What is worked out first shows in what is put. */
+    private static void order(Bench b) {
+        String f = "int z; int a[9]; int *p = &z; int f(int n) { put(n); return n; } int g(int a, int b, int c) { return a * 100 + b * 10 + c; } int main() { int x = 0; ";
+        sends(b, "123", f + "g(f('1'), f('2'), f('3')); }");
+        sends(b, "12", f + "f('1') - f('2'); }");
+        sends(b, "12", f + "a[f('1') - '1'] = f('2'); }");
+        sends(b, "1", f + "f('1') - '1' && f('2'); }");
+        sends(b, "1", f + "f('1') || f('2'); }");
+        sends(b, "13", f + "f('1') - '1' ? f('2') : f('3'); }");
+        sends(b, "12", f + "f('1'), f('2'); }");
+        sends(b, "12", f + "a[f('1') - '1'] += f('2'); }");
+        // The left one of op= is read behind the right side.
+        b.ends(30, f + "x += (x = 10, 20); return x; }");
+        b.ends(7, f + "*p += (p = &x, z = 3, 4); return z; }");
+        // Which variable it is, is known ahead of the right side.
+        b.ends(5, f + "int i = 0; a[i] = (i = 1, 5); return a[0]; }");
+        b.ends(1, f + "int i = 1; return i++ * 10 + i-- - i == 11; }");
+        b.ends(123, f + "return g(++x, ++x, ++x); }");
+    }
+
+    private static void sends(Bench b, String output, String text) {
+        WordFoundry x = b.fresh();
+        b.due(text, Bench.cast(x, text), 0);
+        x.begin(4096);
+        Bench.run(x);
+        b.due("state " + text, x.look(1), 3);
+        b.due("sent " + text, x.look(5), output.length());
+        for (int i = 0; i < output.length(); i++) {
+            b.due("out " + i + " of " + text, x.out(i), output.charAt(i));
+        }
+    }
+
+    private static void addressTraps(Bench b) {
+        for (int address : new int[] {0, 60, 63, 61, 4093, 4094, 4096, 4097, -1, -4, Integer.MIN_VALUE, Integer.MAX_VALUE}) {
+            String pointer = "int *p = (int *) " + (address < 0 ? Long.toString(address & 0xffffffffL) : address) + "; ";
+            b.traps(2, "int main() { " + pointer + "@*p; }");
+            b.traps(2, "int main() { " + pointer + "@*p = 1; }");
+            b.traps(2, "int main() { " + pointer + "p@[0]++; }");
+        }
+        b.ends(0, "int main() { return *(int *) 64 + *(char *) 64 + *(char *) 4095 + *(int *) 4092; }");
+        b.traps(2, "int main() { return @*(char *) 63; }");
+        b.traps(2, "int main() { return @*(char *) 4096; }");
+        b.traps(2, "struct A { int a; int c; }; struct A *n; int main() { return 1 + n@->c; }");
+        b.traps(2, "struct A { int a; int c; }; struct A *n; int main() { return 1 + (*n)@.c; }");
+        b.traps(2, "struct A { int a; int c[3]; }; struct A *n; int main() { return n->c@[2]; }");
+        b.traps(2, "struct B { int x; }; struct A { int a; struct B c; }; struct A *n; int main() { n->c@.x = 2; }");
+        b.traps(2, "int **q; int main() { **q = 5; }".replace("**q = 5", "*@*q = 5"));
+        b.traps(2, "int a[3]; int main() { int i = 1010; a@[i] = 5; }");
+        b.traps(2, "int a[3]; int main() { int i = 0x40000000; i = 3 * i; a@[i - 10] = 5; }");
+        b.traps(2, "int m[2][2]; int main() { m[1]@[-100]; }");
+        b.traps(2, "int main() { int *p = 0; (@*p)++; }");
+        b.traps(2, "int main() { int *p = 0; --@*p; }");
+        b.traps(2, "int main() { int *p = 0; @*p += 1; }");
+        b.traps(2, "int main() { return @*\"abc\" + \"abc\"@[-100]; }".replace("@*\"", "*\""));
+        b.traps(2, "int main() { if (@*(int *) 0) ; }");
+        b.traps(2, "void f(int a) { } int main() { f(@*(int *) 0); }");
+        // The right side comes ahead of the write.
+        b.traps(1, "int main() { int *p = 0; int z = 0; *p = 1 @/ z; }");
+        b.traps(2, "int main() { int *p = 0; int *q = 0; *p = @*q; }");
+        b.traps(2, "int main() { int *p = 0; @*p /= 0; }");
+        b.traps(2, "int main() { int *p = 0; int z = 0; z = 5; @*p = z; }");
+    }
+
+    private static void alignedTraps(Bench b) {
+        b.traps(3, "int a[4]; int main() { return @*(int *) ((char *) a + 1); }");
+        b.traps(3, "int a[4]; int main() { @*(int *) ((char *) a + 2) = 1; }");
+        b.traps(3, "int a[4]; int main() { int **p = (int **) 67; p@[0] = 0; }");
+        b.traps(3, "int main() { return @*(int *) 4091; }");
+        b.traps(2, "int main() { return @*(int *) 4095; }");
+        b.traps(2, "int main() { return @*(int *) 62; }");
+        b.traps(3, "struct A { char c; int v; }; int main() { return ((struct A *) 66)@->v; }");
+        b.ends(0, "struct A { char c; int v; }; int main() { return ((struct A *) 66)->c + *(char *) 67; }");
+        b.traps(3, "int main() { int x = 5; x += @*(int *) 65; }");
+    }
+
+    private static void zeroTraps(Bench b) {
+        b.traps(1, "int main() { int z = 0; return 5 @/ z; }");
+        b.traps(1, "int main() { unsigned z = 0; return 5 @% z; }");
+        b.traps(1, "int main() { int x = 5; x @/= 0; }");
+        b.traps(1, "int main() { char x = 5; char y = 0; x @%= y; }");
+        b.traps(1, "int main() { int x = 5; return x @/ 0 + 1; }");
+        b.traps(1, "int main() { int x = 5; return x / 1 @% 0; }");
+        WordFoundry x = b.fresh();
+        Bench.cast(x, "int a = 5; int main() { a = 6; a /= 0; a = 7; }");
+        x.begin(1024);
+        b.due("rounds", x.go(9), 1);
+        b.due("nothing was written", x.peek(64), 6);
+        b.due("state", x.look(1), 4);
+        b.due("place", x.look(3), 33);
+    }
+
+    private static void structCopies(Bench b) {
+        String s = "struct A { char c; int v; }; struct B { char c[5]; }; struct A *n; struct A a, d; struct B e, *m; int x[9]; int main() { ";
+        b.ends(9, s + "a.v = 7; a.c = 2; d = a; return d.v + d.c; }");
+        b.traps(2, s + "a = @*n; }");
+        b.traps(2, s + "@*n = a; }");
+        b.traps(2, s + "n[0] = @*n; }");
+        b.traps(2, s + "n@[0] = a; }");
+        b.traps(3, s + "n = (struct A *) 65; a = @*n; }");
+        b.traps(3, s + "n = (struct A *) 65; @*n = a; }");
+        b.traps(2, s + "n = (struct A *) 4092; a = @*n; }");
+        b.traps(2, s + "n = (struct A *) 4091; a = @*n; }");
+        b.traps(2, s + "n = (struct A *) 60; a = @*n; }");
+        b.traps(2, s + "n = (struct A *) 0xfffffffc; a = @*n; }");
+        b.traps(2, s + "a = (1, @*n); }");
+        b.traps(2, s + "struct A k = @*n; }");
+        b.traps(2, s + "struct A k = (1, 2, n@[3]); }");
+        b.traps(2, s + "m = (struct B *) 4092; e = @*m; }");
+        b.ends(0, s + "m = (struct B *) 4091; e = *m; return e.c[0]; }");
+        b.ends(0, s + "m = (struct B *) 65; e = *m; return 0; }");
+        b.ends(6, s + "a.v = 6; struct A k = a; a.v = 1; struct A l = (1, k); return l.v; }");
+        // Bytes go from the lowest one on, also where the two lie over one another.
+        b.ends(55555, s + "m = &e; e.c[0] = 5; struct B *o = (struct B *) ((char *) m + 1); *o = *m; "
+            + "return ((e.c[1] * 10 + e.c[2]) * 10 + e.c[3]) * 100 + e.c[4] * 10 + *((char *) m + 5) ; }");
+        b.ends(777, s + "n = (struct A *) x; x[0] = 7; *(struct A *) (x + 1) = *n; return x[0] * 100 + x[1] * 10 + x[2]; }");
+        b.ends(321, s + "n = (struct A *) x; x[0] = 9; x[1] = 3; x[2] = 2; *n = *(struct A *) (x + 1); return x[0] * 100 + x[1] * 10 + 1; }");
+        WordFoundry x = b.fresh();
+        Bench.cast(x, "struct B { int c[8]; }; struct B b; int main() { b.c[0] = 3; *(struct B *) 1000 = b; }");
+        x.begin(1024);
+        x.go(1);
+        b.due("it trapped", x.look(2), 2);
+        b.due("nothing was copied", x.peek(1000), 0);
+    }
+
+    /** What reads a scalar, and what is an address alone. */
+    private static void reads(Bench b) {
+        String s = "struct A { int v; int r[3]; }; struct A *n; int *p; int m[2][2]; int main() { ";
+        b.traps(2, s + "@*p; }");
+        b.traps(2, s + "@*p, 1; }");
+        b.traps(2, s + "for (@*p; ; ) ; }");
+        b.traps(2, s + "for (; ; @*p) ; }");
+        b.traps(2, s + "(void) @*p; }");
+        b.traps(2, s + "n@->v; }");
+        b.traps(2, s + "1 ? @*p : 0; }");
+        b.ends(0, s + "*n; &*p; n->r; (void) *n; *n, 1; &n->v; &p[5]; sizeof *p; m[9]; &m[9][9]; 0 && *p; 1 || *p; for (*n; 0; *n) ; }");
+        b.ends(4, s + "return (int) &n->r + (int) n->r - 4; }");
+        b.ends(20, s + "return (int) (p + 5); }");
+    }
+
+    /** E's whose parts need more registers than there are, and calls in them. */
+    private static void deep(Bench b) {
+        StringBuilder right = new StringBuilder("1");
+        for (int k = 0; k < 24; k++) {
+            right.insert(0, "one - (").append(" + one)");
+        }
+        int due = 1;
+        for (int k = 0; k < 24; k++) {
+            due = 1 - (due + 1);
+        }
+        b.ends(due, "int main() { int one = 1; return " + right + "; }");
+        StringBuilder calls = new StringBuilder("n");
+        for (int k = 0; k < 12; k++) {
+            calls.insert(0, "n + n * f(n, 2, ").append(", 4, 5, 6, 7, 8)");
+        }
+        int value = 1;
+        for (int k = 0; k < 12; k++) {
+            value = 1 + (1 * 2 + 2 * 3 + value * 5 + 4 * 7 + 5 * 11 + 6 * 13 + 7 * 17 + 8 * 19);
+        }
+        b.ends(value, "int f(int a, int b, int c, int d, int e, int g, int h, int i) { return a * 2 + b * 3 + c * 5 + d * 7 + e * 11 + g * 13 + h * 17 + i * 19; } "
+            + "int main() { int n = 1; return " + calls + "; }");
+        String wide = "a | a ^ a & a == a < a << a + a * (";
+        b.ends(1, "int x[2]; int main() { int a = 1; int *p = x; return (" + wide.repeat(6) + "p[a] = a" + ")".repeat(6) + ") != 12345 && x[1] == 1; }");
+        // What waits in registers outlives a call that uses the same ones.
+        b.ends(55, "int f(int n) { return n ? n + (n * 0 + (n * 0 + f(n - 1))) : 0; } int main() { return f(10); }");
+    }
+}
