@@ -1136,7 +1136,8 @@ public final class WordFoundry {
             }
             expect(RPAREN);
             if (kind() == LBRACE) {
-                n.c = block(1);
+                n.c = new Node(N_BLOCK, place());
+                n.c.a = rows(2, false);
             } else {
                 expect(SEMICOLON);
             }
@@ -1159,12 +1160,6 @@ public final class WordFoundry {
                 last = param;
             }
             return first;
-        }
-
-        private Node block(int depth) {
-            Node n = new Node(N_BLOCK, place());
-            n.a = rows(depth + 1, false);
-            return n;
         }
 
         /** What stands in the { } of a BLOCK or, with labels, of a switch. */
@@ -1205,14 +1200,21 @@ public final class WordFoundry {
             if (depth > MOST_NEST && kind() != END) {
                 fail(LIMIT, place());
             }
+            Node n = new Node(kind() == LBRACE ? N_BLOCK : N_SWITCH, place());
             switch (kind()) {
-                case LBRACE: return block(depth);
+                case LBRACE:
+                    n.a = rows(depth + 1, false);
+                    return n;
+                case W_SWITCH:
+                    at++;
+                    n.a = condition();
+                    n.b = rows(depth + 1, true);
+                    return n;
                 case SEMICOLON: return word(N_EMPTY);
                 case W_IF: return ifStatement(depth);
                 case W_WHILE: return whileStatement(depth);
                 case W_DO: return doStatement(depth);
                 case W_FOR: return forStatement(depth);
-                case W_SWITCH: return switchStatement(depth);
                 case W_BREAK: return closed(word(N_BREAK));
                 case W_CONTINUE: return closed(word(N_CONTINUE));
                 case W_RETURN: return returnStatement();
@@ -1296,13 +1298,6 @@ public final class WordFoundry {
             }
             expect(RPAREN);
             n.b = statement(depth + 1);
-            return n;
-        }
-
-        private Node switchStatement(int depth) {
-            Node n = word(N_SWITCH);
-            n.a = condition();
-            n.b = rows(depth + 1, true);
             return n;
         }
 
@@ -1447,7 +1442,7 @@ public final class WordFoundry {
             int place = place();
             int kind = typeInParens() ? N_CAST : unaryKind(op);
             if (kind == END) {
-                return postfix(depth);
+                return postfix(primary(depth), depth);
             }
             deepen(depth, place);
             if (kind != N_CAST) {
@@ -1474,8 +1469,9 @@ public final class WordFoundry {
             return type;
         }
 
-        private Node postfix(int depth) {
-            Node n = primary(depth);
+        /** What stands behind a PRIMARY. */
+        private Node postfix(Node primary, int depth) {
+            Node n = primary;
             for (int i = 0; i <= tokens.count; i++) {
                 int kind = kind();
                 int place = place();
@@ -3130,8 +3126,8 @@ public final class WordFoundry {
                 case N_INDEX:
                 case N_FIELD:
                 case N_ARROW:
-                case N_POINTED: read(n, d); break;
-                case N_ADDRESS: address(n.a, d); break;
+                case N_POINTED: read(n, locate(n, d), d); break;
+                case N_ADDRESS: settle(locate(n.a, d), d); break;
                 case N_BEFORE:
                 case N_AFTER: step(n, d); break;
                 case N_UNARY:
@@ -3222,10 +3218,6 @@ public final class WordFoundry {
             return PART + d;
         }
 
-        private void address(Node n, int d) {
-            settle(locate(n, d), d);
-        }
-
         /** Brings a base and the offset into register d. */
         private void settle(int base, int d) {
             if (base != PART + d || offset != 0) {
@@ -3233,12 +3225,12 @@ public final class WordFoundry {
             }
         }
 
-        private void read(Node n, int d) {
+        /** Reads a variable that was located; of an array or struct its address is all there is. */
+        private void read(Node n, int base, int d) {
             if (n.type != null && (n.type.kind == T_ARRAY || n.type.kind == T_STRUCT)) {
-                address(n, d);
+                settle(base, d);
                 return;
             }
-            int base = locate(n, d);
             words.place = n.place;
             words.load(isChar(n.type), PART + d, base, offset);
         }
@@ -3381,7 +3373,7 @@ public final class WordFoundry {
 
         private void assign(Node n, int d) {
             if (n.a.type != null && n.a.type.kind == T_STRUCT) {
-                address(n.a, d);
+                settle(locate(n.a, d), d);
                 copy(n.a.type, n.a, n.b, d);
                 return;
             }
@@ -3494,9 +3486,8 @@ public final class WordFoundry {
         private int result;
         private int trapPlace = NONE;
         private int rounds;
-        private int began;
-        private int goal;
-        private boolean rests;
+        // ROUNDS that may begin; below 0 when it stands ahead of one that may not.
+        private int open;
         private int frames;
         private int leastSp;
         // Of each FRAME: its function, SP, CALL's place, where it returns to, and the caller's parts.
@@ -3557,13 +3548,11 @@ public final class WordFoundry {
 
         /** Runs up to ahead of the ROUND behind the n-th one: how many began. */
         private int run(int n) {
-            began = 0;
-            goal = n;
-            rests = false;
-            for (int i = 0; i < MOST_STEPS && state == STANDS && !rests; i++) {
+            open = n;
+            for (int i = 0; i < MOST_STEPS && state == STANDS && open >= 0; i++) {
                 step();
             }
-            return began;
+            return n - Math.max(open, 0);
         }
 
         private void trap(int number, int place) {
@@ -3692,9 +3681,10 @@ public final class WordFoundry {
             if (!opens(address, bytes, here)) {
                 return;
             }
-            int value = 0;
-            for (int i = 0; i < bytes; i++) {
-                value |= (memory[address + i] & 255) << 8 * i;
+            int value = memory[address] & 255;
+            if (bytes == 4) {
+                int high = memory[address + 3] << 24 | (memory[address + 2] & 255) << 16;
+                value |= high | (memory[address + 1] & 255) << 8;
             }
             x[to] = value;
         }
@@ -3705,8 +3695,11 @@ public final class WordFoundry {
             if (!opens(address, bytes, here)) {
                 return;
             }
-            for (int i = 0; i < bytes; i++) {
-                memory[address + i] = (byte) (value >> 8 * i);
+            memory[address] = (byte) value;
+            if (bytes == 4) {
+                memory[address + 1] = (byte) (value >> 8);
+                memory[address + 2] = (byte) (value >> 16);
+                memory[address + 3] = (byte) (value >> 24);
             }
         }
 
@@ -3734,13 +3727,12 @@ public final class WordFoundry {
 
         /** A ROUND begins, or the machine rests ahead of it. */
         private void round(int here) {
-            if (began >= goal) {
-                rests = true;
+            open--;
+            if (open < 0) {
                 pc = here;
-                return;
+            } else {
+                rounds++;
             }
-            began++;
-            rounds++;
         }
 
         private void enter() {
