@@ -2409,6 +2409,9 @@ public final class WordFoundry {
                 } else {
                     tokens.copyString(initial.place, initial.value, program.data, address);
                 }
+            } else if (!type.isScalar()) {
+                // Wrong as such: the document tells of an E2's own faults for scalar types alone.
+                fail(BAD_TYPE, initial);
             } else if (typing.check(initial)) {
                 fillScalar(type, initial, address);
             }
@@ -2418,7 +2421,7 @@ public final class WordFoundry {
             int k = 0;
             for (Node part = initial.a; part != null && right(); part = part.next) {
                 if (k >= type.count || type.base == null) {
-                    failSuperfluous(part);
+                    fail(BAD_TYPE, part);
                     return;
                 }
                 fill(type.base, part, address + k * type.base.size);
@@ -2430,18 +2433,11 @@ public final class WordFoundry {
             Thing field = type.fields;
             for (Node part = initial.a; part != null && right(); part = part.next) {
                 if (field == null) {
-                    failSuperfluous(part);
+                    fail(BAD_TYPE, part);
                     return;
                 }
                 fill(field.type, part, address + field.address);
                 field = field.next;
-            }
-        }
-
-        /** An E2's own faults come ahead of that it is one too many. */
-        private void failSuperfluous(Node initial) {
-            if (initial.kind == N_BRACES || typing.check(initial)) {
-                fail(BAD_TYPE, initial);
             }
         }
 
@@ -2453,7 +2449,7 @@ public final class WordFoundry {
                     fail(NO_CONSTANT, initial);
                 }
                 program.store(address, initial.value, type.size);
-            } else if (type.kind != T_POINTER || !typing.fits(initial, type)) {
+            } else if (!typing.fits(initial, type)) {
                 fail(BAD_TYPE, initial);
             } else if (initial.kind == N_STRING) {
                 // Where it lies is known at the END.
@@ -2625,12 +2621,10 @@ public final class WordFoundry {
         }
 
         private void tellLocalInitial(Type type, Node initial) {
-            if (initial.kind == N_BRACES) {
+            if (initial.kind == N_BRACES || type.kind == T_ARRAY) {
                 fail(OUT_OF_PLACE, initial);
             } else if (!typing.check(initial)) {
                 return;
-            } else if (type.kind == T_ARRAY) {
-                fail(OUT_OF_PLACE, initial);
             } else if (type.kind == T_STRUCT) {
                 if (program.valueType(initial) != type) {
                     fail(BAD_TYPE, initial);

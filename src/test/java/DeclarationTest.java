@@ -202,10 +202,12 @@ public final class DeclarationTest {
         b.fault(5, "char a[4] = {@\"abc\"}; int main() { }");
         b.fault(5, "int a[2] = {1, 2, @3}; int main() { }");
         b.fault(5, "int a[2] = {1, 2, 3 @+ 4}; int main() { }");
+        b.fault(5, "int a[2] = {1, 2, @x}; int main() { }");
         b.fault(5, "int a[2] = {1, 2, @{3}}; int main() { }");
         b.fault(5, "int a[2] = {1, @{2}}; int main() { }");
         b.fault(5, "int a[2][2] = {{1, 2}, @3}; int main() { }");
         b.fault(5, "int a[2] = @1; int main() { }");
+        b.fault(5, "int a[2] = 1 @+ x; int main() { }");
         b.fault(5, "struct A { int a; }; struct A b = {1, @2}; int main() { }");
         b.fault(5, "struct A { int a; }; struct A b = @1; int main() { }");
         b.fault(5, "struct A { int a; }; struct A a; struct A b = @a; int main() { }");
@@ -260,6 +262,7 @@ public final class DeclarationTest {
         b.faultIn(9, "int a[2] = @arr;");
         b.faultIn(9, "char a[4] = @\"abc\";");
         b.faultIn(9, "int a[2] = 1 @+ 1;");
+        b.faultIn(9, "int a[2] = 1 @+ x;");
         b.faultIn(4, "int x; int x@ = y;".replace("x@", "@x"));
         b.faultIn(3, "int a = @y;");
     }
