@@ -261,7 +261,7 @@ public final class WordFoundry {
     private int taped = 0;
     private final Tokens tokens = new Tokens();
     private final Former former = new Former(tokens);
-    private final Program program = new Program(tokens);
+    private final Program program = new Program();
     private final Meaning meaning = new Meaning(program, tokens);
     private final Words words = new Words();
     private final Caster caster = new Caster(program, words);
@@ -922,18 +922,14 @@ public final class WordFoundry {
             at = 0;
             fault = 0;
             waiting = 0;
-            Node first = null;
-            Node last = null;
+            Node head = new Node(END, 0);
+            Node last = head;
             for (int i = 0; i <= tokens.count && kind() != END; i++) {
                 Node n = declaration();
-                if (last == null) {
-                    first = n;
-                } else {
-                    last.next = n;
-                }
+                last.next = n;
                 last = n;
             }
-            return first;
+            return head.next;
         }
 
         private int kind() {
@@ -995,17 +991,15 @@ public final class WordFoundry {
             Node n = new Node(N_STRUCT, place());
             n.name = takeName();
             expect(LBRACE);
-            Node last = null;
-            for (int i = 0; i <= tokens.count && (last == null || beginsType(kind())); i++) {
+            Node head = new Node(END, 0);
+            Node last = head;
+            for (int i = 0; i <= tokens.count && (last == head || beginsType(kind())); i++) {
                 Node type = type();
                 Node row = row(type, named(), false);
-                if (last == null) {
-                    n.a = row;
-                } else {
-                    last.next = row;
-                }
+                last.next = row;
                 last = row;
             }
+            n.a = head.next;
             expect(RBRACE);
             expect(SEMICOLON);
             return n;
@@ -1015,20 +1009,18 @@ public final class WordFoundry {
             Node n = new Node(N_ENUM, place());
             at++;
             expect(LBRACE);
-            Node last = null;
-            for (int i = 0; i <= tokens.count && (last == null || more(COMMA)); i++) {
+            Node head = new Node(END, 0);
+            Node last = head;
+            for (int i = 0; i <= tokens.count && (last == head || more(COMMA)); i++) {
                 Node item = new Node(N_ITEM, place());
                 item.name = takeName();
                 if (more(ASSIGN)) {
                     item.a = choice(0);
                 }
-                if (last == null) {
-                    n.a = item;
-                } else {
-                    last.next = item;
-                }
+                last.next = item;
                 last = item;
             }
+            n.a = head.next;
             expect(RBRACE);
             expect(SEMICOLON);
             return n;
@@ -1065,8 +1057,8 @@ public final class WordFoundry {
         }
 
         private Node dims() {
-            Node first = null;
-            Node last = null;
+            Node head = new Node(END, 0);
+            Node last = head;
             for (int i = 0; i <= tokens.count && kind() == LBRACKET; i++) {
                 Node n = new Node(N_DIM, place());
                 at++;
@@ -1074,14 +1066,10 @@ public final class WordFoundry {
                     n.a = choice(0);
                 }
                 expect(RBRACKET);
-                if (last == null) {
-                    first = n;
-                } else {
-                    last.next = n;
-                }
+                last.next = n;
                 last = n;
             }
-            return first;
+            return head.next;
         }
 
         /** The rest of a TYPE's items, of which the first one's NAME has been taken, up to the ; behind them. */
@@ -1109,16 +1097,14 @@ public final class WordFoundry {
             Node n = new Node(N_BRACES, place());
             deepen(depth, place());
             at++;
-            Node last = null;
-            for (int i = 0; i <= tokens.count && (last == null || more(COMMA)); i++) {
+            Node head = new Node(END, 0);
+            Node last = head;
+            for (int i = 0; i <= tokens.count && (last == head || more(COMMA)); i++) {
                 Node part = initial(depth + 1);
-                if (last == null) {
-                    n.a = part;
-                } else {
-                    last.next = part;
-                }
+                last.next = part;
                 last = part;
             }
+            n.a = head.next;
             expect(RBRACE);
             return n;
         }
@@ -1145,28 +1131,24 @@ public final class WordFoundry {
         }
 
         private Node params() {
-            Node first = null;
-            Node last = null;
-            for (int i = 0; i <= tokens.count && (last == null || more(COMMA)); i++) {
+            Node head = new Node(END, 0);
+            Node last = head;
+            for (int i = 0; i <= tokens.count && (last == head || more(COMMA)); i++) {
                 Node type = type();
                 Node param = named();
                 param.a = dims();
                 param.c = type;
-                if (last == null) {
-                    first = param;
-                } else {
-                    last.next = param;
-                }
+                last.next = param;
                 last = param;
             }
-            return first;
+            return head.next;
         }
 
         /** What stands in the { } of a BLOCK or, with labels, of a switch. */
         private Node rows(int depth, boolean labels) {
             expect(LBRACE);
-            Node first = null;
-            Node last = null;
+            Node head = new Node(END, 0);
+            Node last = head;
             for (int i = 0; i <= tokens.count && kind() != RBRACE && kind() != END; i++) {
                 Node n;
                 if (labels && (kind() == W_CASE || kind() == W_DEFAULT)) {
@@ -1174,15 +1156,11 @@ public final class WordFoundry {
                 } else {
                     n = beginsType(kind()) ? row(type(), named(), true) : statement(depth);
                 }
-                if (last == null) {
-                    first = n;
-                } else {
-                    last.next = n;
-                }
+                last.next = n;
                 last = n;
             }
             expect(RBRACE);
-            return first;
+            return head.next;
         }
 
         private Node label() {
@@ -1200,16 +1178,16 @@ public final class WordFoundry {
             if (depth > MOST_NEST && kind() != END) {
                 fail(LIMIT, place());
             }
-            Node n = new Node(kind() == LBRACE ? N_BLOCK : N_SWITCH, place());
             switch (kind()) {
                 case LBRACE:
-                    n.a = rows(depth + 1, false);
-                    return n;
+                    Node block = new Node(N_BLOCK, place());
+                    block.a = rows(depth + 1, false);
+                    return block;
                 case W_SWITCH:
-                    at++;
-                    n.a = condition();
-                    n.b = rows(depth + 1, true);
-                    return n;
+                    Node chosen = word(N_SWITCH);
+                    chosen.a = condition();
+                    chosen.b = rows(depth + 1, true);
+                    return chosen;
                 case SEMICOLON: return word(N_EMPTY);
                 case W_IF: return ifStatement(depth);
                 case W_WHILE: return whileStatement(depth);
@@ -1500,51 +1478,53 @@ public final class WordFoundry {
         }
 
         private Node primary(int depth) {
-            Node n = new Node(leafKind(kind()), place());
             switch (kind()) {
-                case NUMBER:
-                case STRING:
-                    n.value = tokens.valueAt(at);
-                    at++;
-                    return n;
-                case NAME:
-                    n.name = takeName();
-                    return kind() == LPAREN ? call(n, depth) : n;
+                case NUMBER: return number(N_NUMBER);
+                case STRING: return number(N_STRING);
+                case NAME: return tokens.kindAt(at + 1) == LPAREN ? call(depth) : name();
                 case LPAREN:
                     deepen(depth, place());
                     at++;
-                    Node inner = fault == 0 ? expression(depth + 1) : n;
+                    Node inner = fault == 0 ? expression(depth + 1) : new Node(N_NUMBER, 0);
                     expect(RPAREN);
                     return inner;
                 default:
                     fail(BAD_FORM, place());
-                    return n;
+                    return new Node(N_NUMBER, 0);
             }
         }
 
-        private static int leafKind(int kind) {
-            return kind == STRING ? N_STRING : kind == NAME ? N_NAME : N_NUMBER;
+        /** A NUMBER, or a STRING with its length. */
+        private Node number(int kind) {
+            Node n = new Node(kind, place());
+            n.value = tokens.valueAt(at);
+            at++;
+            return n;
         }
 
-        private Node call(Node name, int depth) {
-            Node n = new Node(N_CALL, place());
-            n.name = name.name;
-            n.spot = name.place;
+        private Node name() {
+            Node n = new Node(N_NAME, place());
+            n.name = takeName();
+            return n;
+        }
+
+        private Node call(int depth) {
+            Node n = new Node(N_CALL, tokens.placeAt(at + 1));
+            n.spot = place();
+            n.name = takeName();
             deepen(depth, place());
             at++;
-            Node last = null;
+            Node head = new Node(END, 0);
+            Node last = head;
             int height = 0;
             boolean none = kind() == RPAREN || fault != 0;
-            for (int i = 0; i <= tokens.count && !none && (last == null || more(COMMA)); i++) {
+            for (int i = 0; i <= tokens.count && !none && (last == head || more(COMMA)); i++) {
                 Node argument = assignment(depth + 1);
                 height = Math.max(height, argument.height);
-                if (last == null) {
-                    n.a = argument;
-                } else {
-                    last.next = argument;
-                }
+                last.next = argument;
                 last = argument;
             }
+            n.a = head.next;
             n.close = place();
             expect(RPAREN);
             return high(n, height);
@@ -1555,7 +1535,6 @@ public final class WordFoundry {
     private static final class Program {
         private static final int STRETCHES = 32;
 
-        private final Tokens tokens;
         private final Thing[] things = new Thing[MOST_NAMES];
         private int thingCount;
         private final Type[] structs = new Type[MOST_NAMES];
@@ -1574,10 +1553,6 @@ public final class WordFoundry {
         private Type unsignedType;
         private Type voidType;
         private Type structTypes;
-
-        private Program(Tokens tokens) {
-            this.tokens = tokens;
-        }
 
         private void clear() {
             Arrays.fill(data, 0, textEnd, (byte) 0);
