@@ -1555,7 +1555,9 @@ public final class WordFoundry {
         private Type structTypes;
 
         private void clear() {
-            Arrays.fill(data, 0, textEnd, (byte) 0);
+            for (int i = FIRST_ADDRESS; i < textEnd && i < MOST_DATA; i++) {
+                data[i] = 0;
+            }
             thingCount = 0;
             structCount = 0;
             textEnd = FIRST_ADDRESS;
@@ -3505,7 +3507,9 @@ public final class WordFoundry {
             clearRun();
             size = bytes;
             System.arraycopy(program.data, 0, memory, 0, program.dataEnd);
-            Arrays.fill(memory, program.dataEnd, bytes, (byte) 0);
+            for (int i = program.dataEnd; i < bytes; i++) {
+                memory[i] = 0;
+            }
             Arrays.fill(x, 0);
             x[SP] = bytes;
             leastSp = bytes;
