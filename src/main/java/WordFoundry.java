@@ -473,6 +473,7 @@ public final class WordFoundry {
         private final int count;
         private int size;
         private int align;
+        // That to this type: made with the first pointer to it or array of it.
         private Type pointer;
         private Type arrays;
         private Type nextArray;
@@ -484,10 +485,12 @@ public final class WordFoundry {
         private Thing lastField;
         private Type nextStruct;
 
-        private Type(int kind, Type base, int count) {
+        private Type(int kind, Type base, int count, int size, int align) {
             this.kind = kind;
             this.base = base;
             this.count = count;
+            this.size = size;
+            this.align = align;
         }
 
         private boolean isArithmetic() {
@@ -595,10 +598,6 @@ public final class WordFoundry {
 
         private int placeAt(int i) {
             return i >= 0 && i < count ? places[i] : length;
-        }
-
-        private int valueAt(int i) {
-            return i >= 0 && i < count ? values[i] : 0;
         }
 
         /** Writes a STRING's signs, as many as it has, and leaves the 0 behind them to the rest of the row. */
@@ -906,7 +905,10 @@ public final class WordFoundry {
         private static final int WAITING = 320;
 
         private final Tokens tokens;
+        // The token that is next: which one it is, its kind and its place.
         private int at;
+        private int token;
+        private int here;
         private int fault;
         private final Node[] lefts = new Node[WAITING];
         private final int[] operators = new int[WAITING];
@@ -919,25 +921,29 @@ public final class WordFoundry {
 
         /** The DECLS of the text, or null. */
         private Node form() {
-            at = 0;
             fault = 0;
             waiting = 0;
+            stand(0);
             Node head = new Node(END, 0);
             Node last = head;
-            for (int i = 0; i <= tokens.count && kind() != END; i++) {
-                Node n = declaration();
+            for (int i = 0; i <= tokens.count && token != END; i++) {
+                boolean told = token == W_STRUCT && tokens.kindAt(at + 1) == NAME && tokens.kindAt(at + 2) == LBRACE;
+                Node n = told ? structure() : token == W_ENUM ? enumeration() : typed();
                 last.next = n;
                 last = n;
             }
             return head.next;
         }
 
-        private int kind() {
-            return tokens.kindAt(at);
+        private void stand(int i) {
+            at = i;
+            boolean within = i >= 0 && i < tokens.count;
+            token = within ? tokens.kinds[i] : END;
+            here = within ? tokens.places[i] : tokens.length;
         }
 
-        private int place() {
-            return tokens.placeAt(at);
+        private void advance() {
+            stand(at + 1);
         }
 
         private void fail(int number, int place) {
@@ -945,19 +951,25 @@ public final class WordFoundry {
                 fault = 16 * place + number;
             }
             at = tokens.count;
+            token = END;
+            here = tokens.length;
         }
 
         private void expect(int kind) {
-            if (kind() == kind) {
-                at++;
+            if (token == kind) {
+                advance();
             } else {
-                fail(BAD_FORM, place());
+                fail(BAD_FORM, here);
             }
         }
 
         private int takeName() {
-            int name = tokens.valueAt(at);
-            expect(NAME);
+            if (token != NAME) {
+                fail(BAD_FORM, here);
+                return 0;
+            }
+            int name = tokens.values[at];
+            stand(at + 1);
             return name;
         }
 
@@ -966,34 +978,21 @@ public final class WordFoundry {
         }
 
         private boolean more(int kind) {
-            if (kind() != kind) {
+            if (token != kind) {
                 return false;
             }
-            at++;
+            stand(at + 1);
             return true;
         }
 
-        private Node declaration() {
-            boolean told = tokens.kindAt(at + 1) == NAME && tokens.kindAt(at + 2) == LBRACE;
-            if (kind() == W_STRUCT && told) {
-                return structure();
-            }
-            if (kind() == W_ENUM) {
-                return enumeration();
-            }
-            Node type = type();
-            Node item = named();
-            return kind() == LPAREN ? function(type, item) : row(type, item, true);
-        }
-
         private Node structure() {
-            at++;
-            Node n = new Node(N_STRUCT, place());
+            advance();
+            Node n = new Node(N_STRUCT, here);
             n.name = takeName();
             expect(LBRACE);
             Node head = new Node(END, 0);
             Node last = head;
-            for (int i = 0; i <= tokens.count && (last == head || beginsType(kind())); i++) {
+            for (int i = 0; i <= tokens.count && (last == head || beginsType(token)); i++) {
                 Node type = type();
                 Node row = row(type, named(), false);
                 last.next = row;
@@ -1006,13 +1005,13 @@ public final class WordFoundry {
         }
 
         private Node enumeration() {
-            Node n = new Node(N_ENUM, place());
-            at++;
+            Node n = new Node(N_ENUM, here);
+            advance();
             expect(LBRACE);
             Node head = new Node(END, 0);
             Node last = head;
             for (int i = 0; i <= tokens.count && (last == head || more(COMMA)); i++) {
-                Node item = new Node(N_ITEM, place());
+                Node item = new Node(N_ITEM, here);
                 item.name = takeName();
                 if (more(ASSIGN)) {
                     item.a = choice(0);
@@ -1027,12 +1026,12 @@ public final class WordFoundry {
         }
 
         private Node type() {
-            Node n = new Node(N_TYPE, place());
-            n.op = kind();
-            if (!beginsType(kind())) {
-                fail(BAD_FORM, place());
+            Node n = new Node(N_TYPE, here);
+            n.op = token;
+            if (!beginsType(token)) {
+                fail(BAD_FORM, here);
             }
-            at++;
+            advance();
             if (n.op == W_STRUCT) {
                 n.name = takeName();
             }
@@ -1050,7 +1049,7 @@ public final class WordFoundry {
         /** STARS NAME, of an item, parameter or function. */
         private Node named() {
             int stars = stars();
-            Node n = new Node(N_ITEM, place());
+            Node n = new Node(N_ITEM, here);
             n.value = stars;
             n.name = takeName();
             return n;
@@ -1059,10 +1058,10 @@ public final class WordFoundry {
         private Node dims() {
             Node head = new Node(END, 0);
             Node last = head;
-            for (int i = 0; i <= tokens.count && kind() == LBRACKET; i++) {
-                Node n = new Node(N_DIM, place());
-                at++;
-                if (kind() != RBRACKET) {
+            for (int i = 0; i <= tokens.count && token == LBRACKET; i++) {
+                Node n = new Node(N_DIM, here);
+                advance();
+                if (token != RBRACKET) {
                     n.a = choice(0);
                 }
                 expect(RBRACKET);
@@ -1091,12 +1090,12 @@ public final class WordFoundry {
         }
 
         private Node initial(int depth) {
-            if (kind() != LBRACE) {
+            if (token != LBRACE) {
                 return assignment(depth);
             }
-            Node n = new Node(N_BRACES, place());
-            deepen(depth, place());
-            at++;
+            Node n = new Node(N_BRACES, here);
+            deepen(depth, here);
+            advance();
             Node head = new Node(END, 0);
             Node last = head;
             for (int i = 0; i <= tokens.count && (last == head || more(COMMA)); i++) {
@@ -1109,20 +1108,26 @@ public final class WordFoundry {
             return n;
         }
 
-        private Node function(Node type, Node item) {
+        /** ITEMS of a TYPE, or a function. */
+        private Node typed() {
+            Node type = type();
+            Node item = named();
+            if (token != LPAREN) {
+                return row(type, item, true);
+            }
             Node n = new Node(N_FUNCTION, item.place);
             n.name = item.name;
             n.value = item.value;
             n.a = type;
-            at++;
-            if (kind() == W_VOID && tokens.kindAt(at + 1) == RPAREN) {
-                at++;
-            } else if (kind() != RPAREN) {
+            advance();
+            if (token == W_VOID && tokens.kindAt(at + 1) == RPAREN) {
+                advance();
+            } else if (token != RPAREN) {
                 n.b = params();
             }
             expect(RPAREN);
-            if (kind() == LBRACE) {
-                n.c = new Node(N_BLOCK, place());
+            if (token == LBRACE) {
+                n.c = new Node(N_BLOCK, here);
                 n.c.a = rows(2, false);
             } else {
                 expect(SEMICOLON);
@@ -1149,12 +1154,12 @@ public final class WordFoundry {
             expect(LBRACE);
             Node head = new Node(END, 0);
             Node last = head;
-            for (int i = 0; i <= tokens.count && kind() != RBRACE && kind() != END; i++) {
+            for (int i = 0; i <= tokens.count && token != RBRACE && token != END; i++) {
                 Node n;
-                if (labels && (kind() == W_CASE || kind() == W_DEFAULT)) {
+                if (labels && (token == W_CASE || token == W_DEFAULT)) {
                     n = label();
                 } else {
-                    n = beginsType(kind()) ? row(type(), named(), true) : statement(depth);
+                    n = beginsType(token) ? row(type(), named(), true) : statement(depth);
                 }
                 last.next = n;
                 last = n;
@@ -1164,8 +1169,8 @@ public final class WordFoundry {
         }
 
         private Node label() {
-            Node n = new Node(kind() == W_CASE ? N_CASE : N_DEFAULT, place());
-            at++;
+            Node n = new Node(token == W_CASE ? N_CASE : N_DEFAULT, here);
+            advance();
             if (n.kind == N_CASE) {
                 n.a = choice(0);
             }
@@ -1175,12 +1180,12 @@ public final class WordFoundry {
 
         private Node statement(int depth) {
             // The text's end is no token that could stand where an S would begin.
-            if (depth > MOST_NEST && kind() != END) {
-                fail(LIMIT, place());
+            if (depth > MOST_NEST && token != END) {
+                fail(LIMIT, here);
             }
-            switch (kind()) {
+            switch (token) {
                 case LBRACE:
-                    Node block = new Node(N_BLOCK, place());
+                    Node block = new Node(N_BLOCK, here);
                     block.a = rows(depth + 1, false);
                     return block;
                 case W_SWITCH:
@@ -1201,8 +1206,8 @@ public final class WordFoundry {
         }
 
         private Node word(int kind) {
-            Node n = new Node(kind, place());
-            at++;
+            Node n = new Node(kind, here);
+            advance();
             return n;
         }
 
@@ -1212,14 +1217,14 @@ public final class WordFoundry {
         }
 
         private Node expressionStatement() {
-            Node n = new Node(N_EXPRESSION, place());
+            Node n = new Node(N_EXPRESSION, here);
             n.a = expression(0);
             return closed(n);
         }
 
         private Node returnStatement() {
             Node n = word(N_RETURN);
-            if (kind() != SEMICOLON) {
+            if (token != SEMICOLON) {
                 n.a = expression(0);
             }
             return closed(n);
@@ -1260,18 +1265,18 @@ public final class WordFoundry {
         private Node forStatement(int depth) {
             Node n = word(N_FOR);
             expect(LPAREN);
-            if (beginsType(kind())) {
+            if (beginsType(token)) {
                 n.d = row(type(), named(), true);
-            } else if (kind() == SEMICOLON) {
-                at++;
+            } else if (token == SEMICOLON) {
+                advance();
             } else {
                 n.d = expressionStatement();
             }
-            if (kind() != SEMICOLON) {
+            if (token != SEMICOLON) {
                 n.a = expression(0);
             }
             expect(SEMICOLON);
-            if (kind() != RPAREN) {
+            if (token != RPAREN) {
                 n.c = expression(0);
             }
             expect(RPAREN);
@@ -1304,15 +1309,19 @@ public final class WordFoundry {
             Node n = new Node(kind, place);
             n.a = a;
             n.b = b;
-            return high(n, Math.max(a.height, b.height));
+            n.height = Math.max(a.height, b.height) + 1;
+            if (n.height > MOST_HEIGHT) {
+                fail(LIMIT, place);
+            }
+            return n;
         }
 
         /** E. */
         private Node expression(int depth) {
             Node n = assignment(depth);
-            for (int i = 0; i <= tokens.count && kind() == COMMA; i++) {
-                int place = place();
-                at++;
+            for (int i = 0; i <= tokens.count && token == COMMA; i++) {
+                int place = here;
+                advance();
                 n = pair(N_COMMA, place, n, assignment(depth));
             }
             return n;
@@ -1321,14 +1330,14 @@ public final class WordFoundry {
         /** E2. Its op is the operator ahead of the =, or END. */
         private Node assignment(int depth) {
             Node left = choice(depth);
-            int kind = kind();
+            int kind = token;
             boolean joined = kind >= PLUS + ASSIGN_STEP && kind < ASSIGN;
             if (kind != ASSIGN && !joined) {
                 return left;
             }
-            int place = place();
+            int place = here;
             deepen(depth, place);
-            at++;
+            advance();
             Node n = pair(N_ASSIGN, place, left, fault == 0 ? assignment(depth + 1) : left);
             n.op = joined ? kind - ASSIGN_STEP : END;
             return n;
@@ -1337,13 +1346,13 @@ public final class WordFoundry {
         /** E3. */
         private Node choice(int depth) {
             Node first = binary(depth);
-            if (kind() != QUESTION) {
+            if (token != QUESTION) {
                 return first;
             }
-            Node n = new Node(N_CHOICE, place());
+            Node n = new Node(N_CHOICE, here);
             n.a = first;
-            deepen(depth, place());
-            at++;
+            deepen(depth, here);
+            advance();
             n.b = fault == 0 ? expression(depth + 1) : first;
             // The part behind the : stands no deeper than the one behind the ?, which has been looked at.
             expect(COLON);
@@ -1371,9 +1380,9 @@ public final class WordFoundry {
         private Node binary(int depth) {
             int base = waiting;
             Node n = unary(depth);
-            for (int i = 0; i <= tokens.count && rank(kind()) > 0; i++) {
-                int op = kind();
-                int place = place();
+            for (int i = 0; i <= tokens.count && rank(token) > 0; i++) {
+                int op = token;
+                int place = here;
                 n = join(base, rank(op), n);
                 if (fault != 0 || waiting >= WAITING) {
                     break;
@@ -1382,7 +1391,7 @@ public final class WordFoundry {
                 operators[waiting] = op;
                 spots[waiting] = place;
                 waiting++;
-                at++;
+                advance();
                 n = unary(depth);
             }
             return join(base, 1, n);
@@ -1412,21 +1421,27 @@ public final class WordFoundry {
         }
 
         private boolean typeInParens() {
-            return kind() == LPAREN && beginsType(tokens.kindAt(at + 1));
+            return token == LPAREN && beginsType(tokens.kindAt(at + 1));
         }
 
         private Node unary(int depth) {
-            int op = kind();
-            int place = place();
+            int op = token;
+            int place = here;
             int kind = typeInParens() ? N_CAST : unaryKind(op);
             if (kind == END) {
                 return postfix(primary(depth), depth);
             }
             deepen(depth, place);
             if (kind != N_CAST) {
-                at++;
+                advance();
             }
-            Node type = kind == N_CAST || kind == N_SIZEOF && typeInParens() ? typeName() : null;
+            Node type = null;
+            if (kind == N_CAST || kind == N_SIZEOF && typeInParens()) {
+                advance();
+                type = type();
+                type.value = stars();
+                expect(RPAREN);
+            }
             if (kind == N_SIZEOF && type != null) {
                 Node n = new Node(N_SIZEOF, place);
                 n.c = type;
@@ -1438,36 +1453,27 @@ public final class WordFoundry {
             return n;
         }
 
-        /** ( TYPE STARS ). */
-        private Node typeName() {
-            at++;
-            Node type = type();
-            type.value = stars();
-            expect(RPAREN);
-            return type;
-        }
-
         /** What stands behind a PRIMARY. */
         private Node postfix(Node primary, int depth) {
             Node n = primary;
             for (int i = 0; i <= tokens.count; i++) {
-                int kind = kind();
-                int place = place();
+                int kind = token;
+                int place = here;
                 if (kind == LBRACKET) {
                     deepen(depth, place);
-                    at++;
+                    advance();
                     Node index = fault == 0 ? expression(depth + 1) : n;
                     expect(RBRACKET);
                     n = pair(N_INDEX, place, n, index);
                 } else if (kind == DOT || kind == ARROW) {
-                    at++;
-                    int spot = place();
+                    advance();
+                    int spot = here;
                     int name = takeName();
                     n = single(kind == DOT ? N_FIELD : N_ARROW, place, n);
                     n.spot = spot;
                     n.name = name;
                 } else if (kind == INCREMENT || kind == DECREMENT) {
-                    at++;
+                    advance();
                     n = single(N_AFTER, place, n);
                     n.op = kind;
                 } else {
@@ -1478,46 +1484,46 @@ public final class WordFoundry {
         }
 
         private Node primary(int depth) {
-            switch (kind()) {
+            switch (token) {
                 case NUMBER: return number(N_NUMBER);
                 case STRING: return number(N_STRING);
                 case NAME: return tokens.kindAt(at + 1) == LPAREN ? call(depth) : name();
                 case LPAREN:
-                    deepen(depth, place());
-                    at++;
+                    deepen(depth, here);
+                    advance();
                     Node inner = fault == 0 ? expression(depth + 1) : new Node(N_NUMBER, 0);
                     expect(RPAREN);
                     return inner;
                 default:
-                    fail(BAD_FORM, place());
+                    fail(BAD_FORM, here);
                     return new Node(N_NUMBER, 0);
             }
         }
 
         /** A NUMBER, or a STRING with its length. */
         private Node number(int kind) {
-            Node n = new Node(kind, place());
-            n.value = tokens.valueAt(at);
-            at++;
+            Node n = new Node(kind, here);
+            n.value = at < tokens.count ? tokens.values[at] : 0;
+            advance();
             return n;
         }
 
         private Node name() {
-            Node n = new Node(N_NAME, place());
+            Node n = new Node(N_NAME, here);
             n.name = takeName();
             return n;
         }
 
         private Node call(int depth) {
             Node n = new Node(N_CALL, tokens.placeAt(at + 1));
-            n.spot = place();
+            n.spot = here;
             n.name = takeName();
-            deepen(depth, place());
-            at++;
+            deepen(depth, here);
+            advance();
             Node head = new Node(END, 0);
             Node last = head;
             int height = 0;
-            boolean none = kind() == RPAREN || fault != 0;
+            boolean none = token == RPAREN || fault != 0;
             for (int i = 0; i <= tokens.count && !none && (last == head || more(COMMA)); i++) {
                 Node argument = assignment(depth + 1);
                 height = Math.max(height, argument.height);
@@ -1525,7 +1531,7 @@ public final class WordFoundry {
                 last = argument;
             }
             n.a = head.next;
-            n.close = place();
+            n.close = here;
             expect(RPAREN);
             return high(n, height);
         }
@@ -1566,10 +1572,10 @@ public final class WordFoundry {
             fault = 0;
             forgetNames();
             nameCount = 0;
-            intType = sized(T_INT, 4);
-            charType = sized(T_CHAR, 1);
-            unsignedType = sized(T_UNSIGNED, 4);
-            voidType = sized(T_VOID, 0);
+            intType = new Type(T_INT, null, 0, 4, 4);
+            charType = new Type(T_CHAR, null, 0, 1, 1);
+            unsignedType = new Type(T_UNSIGNED, null, 0, 4, 4);
+            voidType = new Type(T_VOID, null, 0, 0, 1);
             structTypes = null;
             addService(NAME_GET, ASK_GET, intType, false);
             addService(NAME_PUT, ASK_PUT, voidType, true);
@@ -1585,13 +1591,6 @@ public final class WordFoundry {
             newest[0] = null;
         }
 
-        private static Type sized(int kind, int size) {
-            Type t = new Type(kind, null, 0);
-            t.size = size;
-            t.align = Math.max(size, 1);
-            return t;
-        }
-
         private void addService(int name, int service, Type type, boolean takesInt) {
             Thing f = new Thing(FUNCTION, name, NONE);
             f.service = service;
@@ -1605,18 +1604,16 @@ public final class WordFoundry {
             bind(f);
         }
 
+        /** Tells a fault, if it is the first one. The number 0 is none. */
         private void fail(int number, int place) {
-            if (fault == 0) {
+            if (fault == 0 && number != 0) {
                 fault = 16 * place + number;
             }
         }
 
         private Type pointerTo(Type base) {
             if (base.pointer == null) {
-                Type t = new Type(T_POINTER, base, 0);
-                t.size = 4;
-                t.align = 4;
-                base.pointer = t;
+                base.pointer = new Type(T_POINTER, base, 0, 4, 4);
             }
             return base.pointer;
         }
@@ -1627,10 +1624,12 @@ public final class WordFoundry {
                     return t;
                 }
             }
-            Type t = new Type(T_ARRAY, base, count);
             // Sizes beyond the limit are alike: a fault comes of each.
-            t.size = (int) Math.min((long) base.size * count, MOST_SIZE + 1);
-            t.align = base.align;
+            int size = (int) Math.min((long) base.size * count, MOST_SIZE + 1);
+            Type t = new Type(T_ARRAY, base, count, size, base.align);
+            if (base.pointer == null) {
+                base.pointer = new Type(T_POINTER, base, 0, 4, 4);
+            }
             t.nextArray = base.arrays;
             base.arrays = t;
             return t;
@@ -1642,7 +1641,7 @@ public final class WordFoundry {
                     return t;
                 }
             }
-            Type t = sized(T_STRUCT, 0);
+            Type t = new Type(T_STRUCT, null, 0, 0, 1);
             t.name = name;
             t.nextStruct = structTypes;
             structTypes = t;
@@ -1669,7 +1668,7 @@ public final class WordFoundry {
                 return intType;
             }
             if (n.type.kind == T_ARRAY && n.type.base != null) {
-                return pointerTo(n.type.base);
+                return n.type.base.pointer;
             }
             return n.type;
         }
@@ -1758,12 +1757,6 @@ public final class WordFoundry {
             this.program = program;
         }
 
-        /** Goes through an E; whether it has no fault. */
-        private boolean check(Node n) {
-            visit(n);
-            return program.fault == 0;
-        }
-
         /** Whether an E's value can be handed to a type. */
         private boolean fits(Node n, Type to) {
             Type from = program.valueType(n);
@@ -1779,14 +1772,10 @@ public final class WordFoundry {
             return n.constant && n.type == program.intType && n.value == 0;
         }
 
-        private void fail(int number, Node n) {
-            program.fail(number, n.place);
-        }
-
-        /** How deep it goes is kept low by the HEIGHT, which the FORM has looked at. */
-        private void visit(Node n) {
+        /** Goes through an E: whether there is no fault. How deep it goes is kept low by the HEIGHT, which the FORM looked at. */
+        private boolean check(Node n) {
             if (n == null || program.fault != 0) {
-                return;
+                return program.fault == 0;
             }
             switch (n.kind) {
                 case N_NUMBER:
@@ -1797,13 +1786,9 @@ public final class WordFoundry {
                 case N_CALL: visitCall(n); break;
                 case N_SIZEOF: visitSizeof(n); break;
                 case N_CHOICE: visitChoice(n); break;
-                default:
-                    visit(n.a);
-                    visit(n.b);
-                    if (program.fault == 0 && n.a != null) {
-                        combine(n);
-                    }
+                default: visitOperator(n);
             }
+            return program.fault == 0;
         }
 
         private static void constant(Node n, Type type, int value) {
@@ -1812,7 +1797,7 @@ public final class WordFoundry {
             n.value = value;
         }
 
-        private void variable(Node n, Type type) {
+        private static void variable(Node n, Type type) {
             n.variable = true;
             n.type = type;
         }
@@ -1830,9 +1815,9 @@ public final class WordFoundry {
         private void visitName(Node n) {
             Thing t = program.find(n.name);
             if (t == null) {
-                fail(NOT_KNOWN, n);
+                program.fail(NOT_KNOWN, n.place);
             } else if (t.kind == FUNCTION) {
-                fail(BAD_TYPE, n);
+                program.fail(BAD_TYPE, n.place);
             } else if (t.kind == ENUM_NAME) {
                 constant(n, program.intType, t.address);
             } else {
@@ -1854,17 +1839,16 @@ public final class WordFoundry {
             Thing param = f.variables;
             int count = 0;
             for (Node argument = n.a; argument != null; argument = argument.next) {
-                visit(argument);
-                if (program.fault != 0) {
+                if (!check(argument)) {
                     return;
                 }
                 count++;
                 if (count > f.paramCount || param == null) {
-                    fail(BAD_ARGUMENTS, argument);
+                    program.fail(BAD_ARGUMENTS, argument.place);
                     return;
                 }
                 if (!fits(argument, param.type)) {
-                    fail(BAD_TYPE, argument);
+                    program.fail(BAD_TYPE, argument.place);
                     return;
                 }
                 param = param.next;
@@ -1876,31 +1860,27 @@ public final class WordFoundry {
         }
 
         private void visitSizeof(Node n) {
-            visit(n.a);
-            if (program.fault != 0) {
+            if (!check(n.a)) {
                 return;
             }
             Type type = n.a == null ? program.typeOf(n.c, n.c == null ? 0 : n.c.value) : n.a.type;
             if (type == null || !type.isWhole()) {
-                fail(OUT_OF_PLACE, n);
+                program.fail(OUT_OF_PLACE, n.place);
             } else {
                 constant(n, program.intType, type.size);
             }
         }
 
         private void visitChoice(Node n) {
-            visit(n.a);
-            if (program.fault == 0 && !program.valueType(n.a).isScalar()) {
-                fail(BAD_TYPE, n);
+            if (check(n.a) && !program.valueType(n.a).isScalar()) {
+                program.fail(BAD_TYPE, n.place);
             }
-            visit(n.b);
-            visit(n.c);
-            if (program.fault != 0) {
+            if (!check(n.b) || !check(n.c)) {
                 return;
             }
             Type type = chosenType(n.b, n.c);
             if (type == null) {
-                fail(BAD_TYPE, n);
+                program.fail(BAD_TYPE, n.place);
                 return;
             }
             n.type = type;
@@ -1937,84 +1917,78 @@ public final class WordFoundry {
             return left.kind == T_UNSIGNED || right.kind == T_UNSIGNED ? program.unsignedType : program.intType;
         }
 
-        /** The operator of a node whose parts have been gone through. */
-        private void combine(Node n) {
+        /** An operator, behind its parts. Each kind's method answers the fault at the operator, or 0. */
+        private void visitOperator(Node n) {
+            if (!check(n.a) || !check(n.b) || n.a == null) {
+                return;
+            }
+            int fault = 0;
             switch (n.kind) {
-                case N_INDEX: index(n); break;
+                case N_INDEX: fault = index(n); break;
                 case N_FIELD:
-                case N_ARROW: field(n); break;
+                case N_ARROW: fault = field(n); break;
                 case N_BEFORE:
-                case N_AFTER: step(n); break;
-                case N_UNARY: unary(n); break;
+                case N_AFTER: fault = step(n); break;
+                case N_UNARY: fault = unary(n); break;
                 case N_ADDRESS:
-                    if (n.a.variable) {
-                        n.type = program.pointerTo(n.a.type);
-                    } else {
-                        fail(NO_VARIABLE, n);
-                    }
+                    n.type = n.a.variable ? program.pointerTo(n.a.type) : null;
+                    fault = n.a.variable ? 0 : NO_VARIABLE;
                     break;
-                case N_POINTED: pointed(n); break;
-                case N_CAST: castTo(n, program.typeOf(n.c, n.c == null ? 0 : n.c.value)); break;
-                case N_BINARY: binary(n); break;
-                case N_LOGIC: logic(n); break;
-                case N_ASSIGN: assign(n); break;
+                case N_POINTED: fault = pointed(n); break;
+                case N_CAST: fault = castTo(n, program.typeOf(n.c, n.c == null ? 0 : n.c.value)); break;
+                case N_BINARY: fault = binary(n); break;
+                case N_LOGIC: fault = logic(n); break;
+                case N_ASSIGN: fault = assign(n); break;
                 default: n.type = program.valueType(n.b);
             }
+            program.fail(fault, n.place);
         }
 
-        /** Whether a pointer can be MOVED; what is wrong is told at an operator. */
-        private boolean moved(Type pointer, Node n) {
+        /** The fault of a pointer that can't be MOVED; 0 of one that can. */
+        private static int fixed(Type pointer) {
             if (pointer.base == null || pointer.base.kind == T_VOID) {
-                fail(BAD_TYPE, n);
-                return false;
+                return BAD_TYPE;
             }
-            if (!pointer.base.isWhole()) {
-                fail(OUT_OF_PLACE, n);
-                return false;
-            }
-            return true;
+            return pointer.base.kind != T_STRUCT || pointer.base.complete ? 0 : OUT_OF_PLACE;
         }
 
-        private void index(Node n) {
+        private int index(Node n) {
             Type type = program.valueType(n.a);
             if (type.kind != T_POINTER || !program.valueType(n.b).isArithmetic()) {
-                fail(BAD_TYPE, n);
-            } else if (moved(type, n)) {
-                variable(n, type.base);
+                return BAD_TYPE;
             }
+            variable(n, type.base);
+            return fixed(type);
         }
 
-        private void pointed(Node n) {
+        private int pointed(Node n) {
             Type type = program.valueType(n.a);
             if (type.kind != T_POINTER) {
-                fail(BAD_TYPE, n);
-            } else if (moved(type, n)) {
-                variable(n, type.base);
+                return BAD_TYPE;
             }
+            variable(n, type.base);
+            return fixed(type);
         }
 
-        private void field(Node n) {
-            Type type = n.a.type;
-            boolean right = n.a.variable;
+        private int field(Node n) {
+            Type type = n.a.variable ? n.a.type : null;
             if (n.kind == N_ARROW) {
-                type = program.valueType(n.a);
-                right = type.kind == T_POINTER;
-                type = type.base;
+                Type pointer = program.valueType(n.a);
+                type = pointer.kind == T_POINTER ? pointer.base : null;
             }
-            if (!right || type == null || type.kind != T_STRUCT) {
-                fail(BAD_TYPE, n);
-                return;
+            if (type == null || type.kind != T_STRUCT) {
+                return BAD_TYPE;
             }
             if (!type.complete) {
-                fail(OUT_OF_PLACE, n);
-                return;
+                return OUT_OF_PLACE;
             }
             n.thing = fieldNamed(type, n.name);
             if (n.thing == null) {
                 program.fail(NOT_KNOWN, n.spot);
-            } else {
-                variable(n, n.thing.type);
+                return NOT_KNOWN;
             }
+            variable(n, n.thing.type);
+            return 0;
         }
 
         private static Thing fieldNamed(Type s, int name) {
@@ -2026,48 +2000,49 @@ public final class WordFoundry {
             return null;
         }
 
-        private void step(Node n) {
+        private int step(Node n) {
             Type type = n.a.type;
             if (!n.a.variable) {
-                fail(NO_VARIABLE, n);
-            } else if (type == null || !type.isScalar()) {
-                fail(BAD_TYPE, n);
-            } else if (type.kind != T_POINTER || moved(type, n)) {
-                n.type = program.valueType(n.a);
+                return NO_VARIABLE;
             }
+            if (type == null || !type.isScalar()) {
+                return BAD_TYPE;
+            }
+            n.type = program.valueType(n.a);
+            return type.kind == T_POINTER ? fixed(type) : 0;
         }
 
-        private void unary(Node n) {
+        private int unary(Node n) {
             Type type = program.valueType(n.a);
             if (n.op == NOT ? !type.isScalar() : !type.isArithmetic()) {
-                fail(BAD_TYPE, n);
-                return;
+                return BAD_TYPE;
             }
             n.type = n.op == NOT ? program.intType : type;
             if (n.a.constant) {
                 int value = n.a.value;
                 constant(n, n.type, n.op == MINUS ? -value : n.op == TILDE ? ~value : value == 0 ? 1 : 0);
             }
+            return 0;
         }
 
-        private void castTo(Node n, Type to) {
+        private int castTo(Node n, Type to) {
             n.op = to.kind;
+            n.type = to.kind == T_CHAR ? program.intType : to;
             if (to.kind == T_VOID) {
-                n.type = to;
-            } else if (!to.isScalar() || !program.valueType(n.a).isScalar()) {
-                fail(BAD_TYPE, n);
-            } else {
-                n.type = to.kind == T_CHAR ? program.intType : to;
-                if (n.a.constant && to.isArithmetic()) {
-                    constant(n, n.type, to.kind == T_CHAR ? n.a.value & 255 : n.a.value);
-                }
+                return 0;
             }
+            if (!to.isScalar() || !program.valueType(n.a).isScalar()) {
+                return BAD_TYPE;
+            }
+            if (n.a.constant && to.isArithmetic()) {
+                constant(n, n.type, to.kind == T_CHAR ? n.a.value & 255 : n.a.value);
+            }
+            return 0;
         }
 
-        private void logic(Node n) {
+        private int logic(Node n) {
             if (!program.valueType(n.a).isScalar() || !program.valueType(n.b).isScalar()) {
-                fail(BAD_TYPE, n);
-                return;
+                return BAD_TYPE;
             }
             n.type = program.intType;
             if (n.a.constant && n.b.constant) {
@@ -2075,9 +2050,10 @@ public final class WordFoundry {
                 boolean right = n.b.value != 0;
                 constant(n, n.type, (n.op == AND_AND ? left && right : left || right) ? 1 : 0);
             }
+            return 0;
         }
 
-        private void binary(Node n) {
+        private int binary(Node n) {
             Type left = program.valueType(n.a);
             Type right = program.valueType(n.b);
             boolean compares = n.op >= LESS && n.op <= NOT_EQUAL;
@@ -2085,50 +2061,46 @@ public final class WordFoundry {
                 boolean shifts = n.op == SHIFT_LEFT || n.op == SHIFT_RIGHT;
                 Type type = shifts ? left : both(left, right);
                 n.type = compares ? program.intType : type;
-                if (n.a.constant && n.b.constant) {
-                    fold(n, type.kind == T_UNSIGNED);
-                }
-            } else if (compares) {
-                n.type = program.intType;
-                boolean same = left == right && left.kind == T_POINTER;
-                if (n.op >= EQUAL ? !equable(n.a, n.b, left, right) : !same) {
-                    fail(BAD_TYPE, n);
-                }
-            } else {
-                moves(n, left, right);
+                return n.a.constant && n.b.constant ? fold(n, type.kind == T_UNSIGNED) : 0;
             }
-        }
-
-        private boolean equable(Node a, Node b, Type left, Type right) {
-            return left.kind == T_POINTER && fits(b, left) || right.kind == T_POINTER && fits(a, right);
+            if (!compares) {
+                return move(n, left, right);
+            }
+            n.type = program.intType;
+            if (n.op != EQUAL && n.op != NOT_EQUAL) {
+                return left.kind == T_POINTER && left == right ? 0 : BAD_TYPE;
+            }
+            boolean fit = left.kind == T_POINTER && fits(n.b, left) || right.kind == T_POINTER && fits(n.a, right);
+            return fit ? 0 : BAD_TYPE;
         }
 
         /** + and - of pointers. */
-        private void moves(Node n, Type left, Type right) {
+        private int move(Node n, Type left, Type right) {
             if ((n.op == PLUS || n.op == MINUS) && left.kind == T_POINTER && right.isArithmetic()) {
-                moved(left, n);
                 n.type = left;
-            } else if (n.op == PLUS && left.isArithmetic() && right.kind == T_POINTER) {
-                moved(right, n);
-                n.type = right;
-            } else if (n.op == MINUS && left.kind == T_POINTER && left == right) {
-                moved(left, n);
-                n.type = program.intType;
-            } else {
-                fail(BAD_TYPE, n);
+                return fixed(left);
             }
+            if (n.op == PLUS && left.isArithmetic() && right.kind == T_POINTER) {
+                n.type = right;
+                return fixed(right);
+            }
+            if (n.op == MINUS && left.kind == T_POINTER && left == right) {
+                n.type = program.intType;
+                return fixed(left);
+            }
+            return BAD_TYPE;
         }
 
-        private void fold(Node n, boolean unsigned) {
+        private int fold(Node n, boolean unsigned) {
             int a = n.a.value;
             int b = n.b.value;
             if ((n.op == SLASH || n.op == PERCENT) && b == 0) {
-                fail(NO_CONSTANT, n);
-                return;
+                return NO_CONSTANT;
             }
             long left = unsigned ? a & 0xffffffffL : a;
             long right = unsigned ? b & 0xffffffffL : b;
             constant(n, n.type, folded(n.op, left, right, b & 31));
+            return 0;
         }
 
         private static int folded(int op, long left, long right, int shift) {
@@ -2152,29 +2124,25 @@ public final class WordFoundry {
             }
         }
 
-        private void assign(Node n) {
+        private int assign(Node n) {
             Type left = n.a.type;
             Type right = program.valueType(n.b);
             if (!n.a.variable || left == null) {
-                fail(NO_VARIABLE, n);
-            } else if (n.op == END && left.kind == T_STRUCT) {
-                n.type = program.voidType;
-                if (left != right || left.size > MOST_COPIED) {
-                    fail(left != right ? BAD_TYPE : LIMIT, n);
-                }
-            } else if (n.op == END) {
-                n.type = program.valueType(n.a);
-                if (!left.isScalar() || !fits(n.b, left)) {
-                    fail(BAD_TYPE, n);
-                }
-            } else if (left.isArithmetic() && right.isArithmetic()) {
-                n.type = program.valueType(n.a);
-            } else if ((n.op == PLUS || n.op == MINUS) && left.kind == T_POINTER && right.isArithmetic()) {
-                moved(left, n);
-                n.type = left;
-            } else {
-                fail(BAD_TYPE, n);
+                return NO_VARIABLE;
             }
+            if (n.op == END && left.kind == T_STRUCT) {
+                n.type = program.voidType;
+                return left != right ? BAD_TYPE : left.size > MOST_COPIED ? LIMIT : 0;
+            }
+            n.type = program.valueType(n.a);
+            if (n.op == END) {
+                return left.isScalar() && fits(n.b, left) ? 0 : BAD_TYPE;
+            }
+            if (left.isArithmetic() && right.isArithmetic()) {
+                return 0;
+            }
+            boolean moves = (n.op == PLUS || n.op == MINUS) && left.kind == T_POINTER && right.isArithmetic();
+            return moves ? fixed(left) : BAD_TYPE;
         }
     }
 
@@ -2208,7 +2176,12 @@ public final class WordFoundry {
                 switch (n.kind) {
                     case N_STRUCT: tellStruct(n); break;
                     case N_ENUM: tellEnum(n); break;
-                    case N_FUNCTION: tellFunction(n); break;
+                    case N_FUNCTION:
+                        Thing f = tellFunction(n);
+                        if (f != null && n.c != null) {
+                            tellBody(f, n.c);
+                        }
+                        break;
                     default:
                         for (Node item = n.b; item != null && right(); item = item.next) {
                             tellTextItem(n.a, item);
@@ -2446,11 +2419,12 @@ public final class WordFoundry {
             program.store(address, v.thing.address, 4);
         }
 
-        private void tellFunction(Node n) {
+        /** All of a function but its BLOCK: the function, or null when there is a fault. */
+        private Thing tellFunction(Node n) {
             Type type = program.typeOf(n.a, n.value);
             if (type.kind == T_STRUCT) {
                 fail(OUT_OF_PLACE, n);
-                return;
+                return null;
             }
             Thing told = new Thing(FUNCTION, n.name, n.place);
             told.type = type;
@@ -2460,12 +2434,10 @@ public final class WordFoundry {
             }
             program.leave();
             if (!right()) {
-                return;
+                return null;
             }
             Thing f = tellFunctionName(n, told);
-            if (right() && n.c != null) {
-                tellBody(f, n.c);
-            }
+            return right() ? f : null;
         }
 
         private void tellParam(Thing f, Node item) {
@@ -2567,12 +2539,6 @@ public final class WordFoundry {
             }
         }
 
-        private void tellLocals(Node row) {
-            for (Node item = row.b; item != null && right(); item = item.next) {
-                tellLocal(row.a, item);
-            }
-        }
-
         private void tellLocal(Node typeNode, Node item) {
             Type type = program.typeOf(typeNode, item.value);
             int dims = measure(type, item, false);
@@ -2621,7 +2587,11 @@ public final class WordFoundry {
                     tellRows(n.a);
                     program.leave();
                     break;
-                case N_ROW: tellLocals(n); break;
+                case N_ROW:
+                    for (Node item = n.b; item != null && right(); item = item.next) {
+                        tellLocal(n.a, item);
+                    }
+                    break;
                 case N_EXPRESSION: typing.check(n.a); break;
                 case N_IF: tellIf(n); break;
                 case N_WHILE:
@@ -2807,13 +2777,11 @@ public final class WordFoundry {
         private void number(int to, int value) {
             int low = value << 20 >> 20;
             int high = value - low;
-            if (high == 0) {
-                immediate(F_ADD, to, ZERO, low);
-                return;
+            if (high != 0) {
+                put(high | to << 7 | OP_UPPER);
             }
-            put(high | to << 7 | OP_UPPER);
-            if (low != 0) {
-                immediate(F_ADD, to, to, low);
+            if (high == 0 || low != 0) {
+                put(low << 20 | (high == 0 ? ZERO : to) << 15 | F_ADD << 12 | to << 7 | OP_IMMEDIATE);
             }
         }
 
