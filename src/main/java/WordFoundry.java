@@ -2831,7 +2831,7 @@ public final class WordFoundry {
         }
 
         private void ask(int service) {
-            immediate(F_ADD, SERVICE, ZERO, service);
+            put(service << 20 | SERVICE << 7 | OP_IMMEDIATE);
             put(OP_SYSTEM);
         }
 
