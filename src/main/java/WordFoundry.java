@@ -3245,9 +3245,11 @@ public final class WordFoundry {
 
         /** The machine's own division by 0 doesn't trap, so that a breakpoint stands in its way. */
         private void divide(Node n, boolean unsigned, int left, int right) {
-            words.place = n.place;
-            words.branch(F_NOT_EQUAL, right, ZERO, 2);
-            words.breakpoint();
+            if (!n.b.constant || n.b.value == 0) {
+                words.place = n.place;
+                words.branch(F_NOT_EQUAL, right, ZERO, 2);
+                words.breakpoint();
+            }
             int funct = n.op == SLASH ? F_DIV : F_REM;
             int without = n.op == SLASH ? F_DIV_UNSIGNED : F_REM_UNSIGNED;
             words.register(GROUP_M, unsigned ? without : funct, left, left, right);
