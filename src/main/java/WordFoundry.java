@@ -1833,7 +1833,8 @@ public final class WordFoundry {
                 return;
             }
             n.thing = f;
-            if (f.firstCall == NONE || n.spot < f.firstCall) {
+            // CALLS are met in the order of their NAMES.
+            if (f.firstCall == NONE) {
                 f.firstCall = n.spot;
             }
             Thing param = f.variables;

@@ -161,6 +161,10 @@ public final class FormTest {
         // Those of DIMS, if, while, for, switch aren't counted.
         b.rightIn("int x[" + times("(", 24) + "1" + times(")", 24) + "]; if (" + times("(", 24) + "1" + times(")", 24)
             + ") ; switch (" + times("(", 24) + "1" + times(")", 24) + ") { }");
+        String full = times("(", 24) + "1" + times(")", 24);
+        b.rightIn("for (" + full + "; " + full + "; " + full + ") break; while (" + full + ") break; do ; while (!" + full.substring(1, 48) + "); "
+            + "switch (1) { case " + full + ": ; } return " + full + ";");
+        b.right("enum { A = " + full + " }; int a = " + full + "; int main() { int b = " + full + "; }");
         b.fault(5, "int a = @" + times("{", 24) + "1" + times("}", 24) + ";");
         b.fault(12, "int a = " + times("{", 24) + "@{1}" + times("}", 24) + ";");
         b.fault(12, "int a = " + times("{", 24) + "@(1)" + times("}", 24) + ";");

@@ -8,6 +8,7 @@ public final class RunTest {
         output(b);
         memory(b);
         values(b);
+        ranks(b);
         control(b);
         order(b);
         addressTraps(b);
@@ -220,6 +221,28 @@ public final class RunTest {
         b.ends(120, "int f(unsigned n) { return n ? n * f(n - 1) : 1; } int main() { return f(5); }");
     }
 
+    /** E's in which another rank, or another order within one, would tell: as constants, and with variables. */
+    private static void ranks(Bench b) {
+        String[] made = {"two || zero && zero", "one && two | zero", "one | three ^ one", "three ^ three & one", "two & two == two", "two == two < three",
+            "five < one << three", "one << two + one", "two + three * two", "-two + three", "~one + two", "!zero + two", "seven - two - one", "seven / two / two",
+            "seven % four * two", "two * seven % four", "one << two << one", "64 >> two >> one", "three > two > one", "two == two == one", "seven - two + one",
+            "zero ? one : zero ? two : three", "(one, two, three)", "five < five", "five <= five", "five > five", "five >= five", "two < three", "three < two",
+            "-one < one", "(one < two) + (two < three) + (one == one) + (one != two) + (three > two) + (two >= two) + (one <= one)", "(one && two) + (zero || three)",
+            "five & six | one", "six ^ three | eight", "one + two << one", "eight >> one + one", "two < one == zero", "!two == zero", "-one * two", "two - -one"};
+        int[] due = {1, 1, 3, 2, 0, 0, 1, 8, 8, 1, 0, 3, 4, 1, 6, 2, 8, 8, 0, 1, 6, 3, 3, 0, 1, 0, 1, 1, 0, 1, 7, 2, 5, 13, 6, 2, 1, 1, -2, 3};
+        String[] names = {"zero", "one", "two", "three", "four", "five", "six", "seven", "eight"};
+        StringBuilder variables = new StringBuilder("int main() { int zero = 0");
+        StringBuilder constants = new StringBuilder("enum { zero");
+        for (int k = 1; k < names.length; k++) {
+            variables.append(", ").append(names[k]).append(" = ").append(k);
+            constants.append(", ").append(names[k]);
+        }
+        for (int k = 0; k < made.length; k++) {
+            b.ends(due[k], variables + "; return " + made[k] + "; }");
+            b.ends(due[k], constants + " }; int main() { return " + made[k] + "; }");
+        }
+    }
+
     private static void control(Bench b) {
         b.ends(15, "int main() { int r = 0; switch (2) { case 1: r += 1; case 2: r += 5; case 3: r += 10; break; default: r += 100; } return r; }");
         b.ends(100, "int main() { int r = 0; switch (9) { case 1: r += 1; break; default: r += 100; } return r; }");
@@ -395,6 +418,16 @@ public final class RunTest {
             + "int main() { int n = 1; return " + calls + "; }");
         String wide = "a | a ^ a & a == a < a << a + a * (";
         b.ends(1, "int x[2]; int main() { int a = 1; int *p = x; return (" + wide.repeat(6) + "p[a] = a" + ")".repeat(6) + ") != 12345 && x[1] == 1; }");
+        // Fourteen parts wait while a call uses as many registers itself.
+        StringBuilder waiting = new StringBuilder("f(1)");
+        StringBuilder within = new StringBuilder("n");
+        int sum = 0;
+        for (int k = 20; k >= 1; k--) {
+            waiting.insert(0, "v * " + k + " + (").append(")");
+            within.insert(0, "n * " + (k + 100) + " - (").append(")");
+            sum += 3 * k;
+        }
+        b.ends(sum, "int f(int n) { return (" + within + ") * 0; } int main() { int v = 3; return " + waiting + "; }");
         // What waits in registers outlives a call that uses the same ones.
         b.ends(55, "int f(int n) { return n ? n + (n * 0 + (n * 0 + f(n - 1))) : 0; } int main() { return f(10); }");
     }
