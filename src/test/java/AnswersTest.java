@@ -104,6 +104,8 @@ public final class AnswersTest {
             }
             b.due("no more " + s, x.layout(s, places[s].length), -1);
         }
+        Bench.cast(x, "struct A { int a; }; int main() { }");
+        b.due("those of an earlier text are gone", x.layout(1, -1), -1);
     }
 
     private static void frames(Bench b) {

@@ -225,6 +225,10 @@ public final class ExpressionTest {
         b.faultIn(5, "i @? p : q;");
         b.faultIn(5, "i @? p : 1;");
         b.faultIn(5, "i @? 1 : vf();");
+        b.faultIn(5, "i @? v : 1;");
+        b.faultIn(5, "i @? 1 : v;");
+        b.faultIn(5, "i @? v : s;");
+        b.faultIn(5, "i @? vf() : v;");
         b.faultIn(5, "i @? s : s;");
         b.faultIn(5, "i @? vf() : p;");
         b.faultIn(5, "i @? m : arr;");

@@ -184,6 +184,12 @@ public final class RunTest {
         b.due("n 3", x.peek(1019), 0x11);
         b.due("t", x.peek(1020), 94);
         b.due("t - s", x.look(2), 2);
+        Bench.cast(x, "int a; int *p[2] = {&a}; char *q[2] = {\"z\"}; char c[3] = {1}; char d[4] = \"v\"; struct S { char c; int v; }; struct S s[2] = {{1, 2}}; int main() { }");
+        x.begin(1024);
+        int[] told = {0, 0, 0, 0, 64, 0, 0, 0, 0, 0, 0, 0, 108, 0, 0, 0, 0, 0, 0, 0, 1, 0, 0, 'v', 0, 0, 0, 0, 1, 0, 0, 0, 2, 0, 0, 0, 0, 0, 0, 0, 0, 0, 0, 0, 'z', 0};
+        for (int i = 0; i < told.length; i++) {
+            b.due("told " + (64 + i), x.peek(64 + i), told[i]);
+        }
         // What isn't told lies as it was left.
         b.ends(77, "int f() { int a = 77; return a; } int g() { int b; return b; } int main() { f(); return g(); }");
         b.ends(0, "int g() { int b; return b; } int main() { return g(); }");

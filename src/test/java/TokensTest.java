@@ -26,6 +26,9 @@ public final class TokensTest {
 
     private static void notes(Bench b) {
         b.right("// \"not closed\nint main() { } // at the end");
+        b.right("/* \t\r\n ~ */ // \t ~ \r\nint main() { }");
+        b.fault(1, "int main() { } /* @\u007f */");
+        b.fault(1, "int main() { } // @\u001f");
         b.right("/* * / ** ' \n */int/**/main(/*/ */) { }//");
         b.right("int main() { int a = 8; int *p = &a; return a / *p; }");
         b.fault(1, "int main() { } @/* not closed *");
