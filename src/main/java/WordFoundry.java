@@ -236,6 +236,12 @@ public final class WordFoundry {
     private static final int F_REM_UNSIGNED = 7;
     private static final int F_EQUAL = 0;
     private static final int F_NOT_EQUAL = 1;
+    private static final int F_BELOW = 4;
+    private static final int F_FROM = 5;
+    private static final int F_BELOW_UNSIGNED = 6;
+    private static final int F_FROM_UNSIGNED = 7;
+    // In the number of a shift to the right: that it keeps the sign.
+    private static final int KEEPS_SIGN = 1024;
     private static final int F_WORD = 2;
     private static final int F_BYTE_STORE = 0;
     private static final int F_BYTE_UNSIGNED = 4;
@@ -2871,15 +2877,15 @@ public final class WordFoundry {
             for (int i = 0; i < program.thingCount; i++) {
                 Thing t = program.things[i];
                 if (t.kind == FUNCTION && t.block != null) {
-                    castFunction(t);
+                    function = t;
+                    castEntry(t);
+                    castRows(t.block.a);
+                    castLeave();
                 }
             }
         }
 
-        private void castFunction(Thing f) {
-            function = f;
-            breaks = NONE;
-            continues = NONE;
+        private void castEntry(Thing f) {
             words.aim(f.stub, words.count);
             words.number(SCRATCH, f.frameSize);
             words.number(SECOND, f.number);
@@ -2890,8 +2896,6 @@ public final class WordFoundry {
                 param = param.next;
             }
             words.ask(ASK_ROUND);
-            castRows(f.block.a);
-            castLeave();
         }
 
         /** The end of a function without a return of its own, whose value is 0 then. */
@@ -2919,7 +2923,7 @@ public final class WordFoundry {
             switch (n.kind) {
                 case N_BLOCK: castRows(n.a); break;
                 case N_ROW: castLocals(n); break;
-                case N_EXPRESSION: value(n.a, 0); break;
+                case N_EXPRESSION: effect(n.a, 0); break;
                 case N_IF: castIf(n); break;
                 case N_WHILE:
                 case N_FOR: castFor(n); break;
@@ -2951,14 +2955,41 @@ public final class WordFoundry {
             }
         }
 
-        private int jumpIfZero(int chain) {
-            words.branch(F_NOT_EQUAL, PART, ZERO, 2);
+        /** Jumps, one of them chained to the others, when an E is 0. */
+        private int jumpUnless(Node n, int chain, int d) {
+            if (n.constant) {
+                return n.value != 0 ? chain : words.jumpLater(chain);
+            }
+            if (n.kind == N_LOGIC && n.op == AND_AND) {
+                return jumpUnless(n.b, jumpUnless(n.a, chain, d), d);
+            }
+            if (n.kind == N_BINARY && n.op >= LESS && n.op <= NOT_EQUAL) {
+                value(n.a, d);
+                skipIf(n, PART + d, second(n.b, d));
+            } else {
+                value(n, d);
+                words.branch(F_NOT_EQUAL, PART + d, ZERO, 2);
+            }
             return words.jumpLater(chain);
         }
 
+        /** A branch over the next word when a comparison holds. */
+        private void skipIf(Node n, int left, int right) {
+            boolean unsigned = isUnsigned(program.valueType(n.a)) || isUnsigned(program.valueType(n.b));
+            int below = unsigned ? F_BELOW_UNSIGNED : F_BELOW;
+            int from = unsigned ? F_FROM_UNSIGNED : F_FROM;
+            switch (n.op) {
+                case LESS: words.branch(below, left, right, 2); break;
+                case GREATER: words.branch(below, right, left, 2); break;
+                case LESS_EQUAL: words.branch(from, right, left, 2); break;
+                case GREATER_EQUAL: words.branch(from, left, right, 2); break;
+                case EQUAL: words.branch(F_EQUAL, left, right, 2); break;
+                default: words.branch(F_NOT_EQUAL, left, right, 2); break;
+            }
+        }
+
         private void castIf(Node n) {
-            value(n.a, 0);
-            int past = jumpIfZero(NONE);
+            int past = jumpUnless(n.a, NONE, 0);
             castStatement(n.b);
             if (n.c != null) {
                 int end = words.jumpLater(NONE);
@@ -2980,14 +3011,13 @@ public final class WordFoundry {
             breaks = NONE;
             continues = NONE;
             if (n.a != null) {
-                value(n.a, 0);
-                breaks = jumpIfZero(NONE);
+                breaks = jumpUnless(n.a, NONE, 0);
             }
             words.ask(ASK_ROUND);
             castStatement(n.b);
             words.aim(continues, words.count);
             if (n.c != null) {
-                value(n.c, 0);
+                effect(n.c, 0);
             }
             words.jumpTo(start);
             words.aim(breaks, words.count);
@@ -3004,8 +3034,7 @@ public final class WordFoundry {
             words.ask(ASK_ROUND);
             castStatement(n.b);
             words.aim(continues, words.count);
-            value(n.a, 0);
-            words.branch(F_EQUAL, PART, ZERO, 2);
+            breaks = jumpUnless(n.a, breaks, 0);
             words.jumpTo(start);
             words.aim(breaks, words.count);
             breaks = outerBreaks;
@@ -3049,6 +3078,17 @@ public final class WordFoundry {
             leave();
         }
 
+        /** An E whose value isn't needed. What it reads is read all the same. */
+        private void effect(Node n, int d) {
+            if (n.kind == N_ASSIGN) {
+                assign(n, d);
+            } else if (n.kind == N_BEFORE || n.kind == N_AFTER) {
+                step(n, d);
+            } else {
+                value(n, d);
+            }
+        }
+
         /** An E's value, or the address of a struct, comes into its register. What it reads is read. */
         private void value(Node n, int d) {
             if (n == null) {
@@ -3069,7 +3109,7 @@ public final class WordFoundry {
                 case N_POINTED: read(n, locate(n, d), d); break;
                 case N_ADDRESS: settle(locate(n.a, d), d); break;
                 case N_BEFORE:
-                case N_AFTER: step(n, d); break;
+                case N_AFTER: words.move(part, step(n, d)); break;
                 case N_UNARY:
                     value(n.a, d);
                     unary(n.op, part);
@@ -3082,13 +3122,15 @@ public final class WordFoundry {
                     break;
                 case N_BINARY:
                     value(n.a, d);
-                    operate(n, part, part, second(n.b, d));
+                    if (!operateBy(n, part)) {
+                        operate(n, part, second(n.b, d));
+                    }
                     break;
                 case N_LOGIC: logic(n, d); break;
                 case N_CHOICE: choice(n, d); break;
-                case N_ASSIGN: assign(n, d); break;
+                case N_ASSIGN: words.move(part, assign(n, d)); break;
                 case N_COMMA:
-                    value(n.a, d);
+                    effect(n.a, d);
                     value(n.b, d);
                     break;
                 default: break;
@@ -3098,6 +3140,9 @@ public final class WordFoundry {
         /** Works an E out while register d is held: the register that has its value. */
         private int second(Node n, int d) {
             int part = PART + d;
+            if (n.constant && n.value == 0) {
+                return ZERO;
+            }
             if (part < LAST_PART) {
                 value(n, d + 1);
                 return part + 1;
@@ -3189,12 +3234,56 @@ public final class WordFoundry {
             } else if (op == TILDE) {
                 words.immediate(F_XOR, part, part, -1);
             } else {
+                truth(false, part);
+            }
+        }
+
+        /** Words for an operator with a constant of 12 bits at its right; whether there are such. */
+        private boolean operateBy(Node n, int left) {
+            if (!n.b.constant) {
+                return false;
+            }
+            Type from = program.valueType(n.a);
+            int by = from.kind == T_POINTER && from.base != null ? n.b.value * from.base.size : n.b.value;
+            boolean away = n.op == MINUS || n.op == EQUAL || n.op == NOT_EQUAL;
+            boolean shifts = n.op == SHIFT_LEFT || n.op == SHIFT_RIGHT;
+            by = away ? -by : shifts ? by & 31 : by;
+            if (by < -2048 || by > 2047) {
+                return false;
+            }
+            switch (n.op) {
+                case PLUS:
+                case MINUS: words.immediate(F_ADD, left, left, by); break;
+                case AMPERSAND: words.immediate(F_AND, left, left, by); break;
+                case BAR: words.immediate(F_OR, left, left, by); break;
+                case CARET: words.immediate(F_XOR, left, left, by); break;
+                case SHIFT_LEFT: words.immediate(F_SHIFT_LEFT, left, left, by); break;
+                case SHIFT_RIGHT: words.immediate(F_SHIFT_RIGHT, left, left, isUnsigned(from) ? by : by | KEEPS_SIGN); break;
+                case LESS:
+                    boolean unsigned = isUnsigned(from) || isUnsigned(program.valueType(n.b));
+                    words.immediate(unsigned ? F_LESS_UNSIGNED : F_LESS, left, left, by);
+                    break;
+                case EQUAL:
+                case NOT_EQUAL:
+                    words.immediate(F_ADD, left, left, by);
+                    truth(n.op == NOT_EQUAL, left);
+                    break;
+                default: return false;
+            }
+            return true;
+        }
+
+        /** 1 for what isn't 0, or the other way round. */
+        private void truth(boolean ofOthers, int part) {
+            if (ofOthers) {
+                words.register(GROUP_BASE, F_LESS_UNSIGNED, part, ZERO, part);
+            } else {
                 words.immediate(F_LESS_UNSIGNED, part, part, 1);
             }
         }
 
-        /** The operator of a node of two values in registers; the right one may be changed by it. */
-        private void operate(Node n, int to, int left, int right) {
+        /** The operator of a node of two values in registers, of which it may change both: the left one takes its value. */
+        private void operate(Node n, int left, int right) {
             Type from = program.valueType(n.a);
             Type with = program.valueType(n.b);
             boolean unsigned = isUnsigned(from) || isUnsigned(with);
@@ -3203,8 +3292,8 @@ public final class WordFoundry {
                 return;
             }
             if (from.kind == T_POINTER && with.kind == T_POINTER) {
-                words.register(GROUP_OTHER, F_ADD, to, left, right);
-                distance(to, from.base);
+                words.register(GROUP_OTHER, F_ADD, left, left, right);
+                distance(left, from.base);
                 return;
             }
             if (from.kind == T_POINTER) {
@@ -3215,9 +3304,9 @@ public final class WordFoundry {
             if (n.op == SLASH || n.op == PERCENT) {
                 divide(n, unsigned, left, right);
             } else if (n.op == SHIFT_RIGHT) {
-                words.register(isUnsigned(from) ? GROUP_BASE : GROUP_OTHER, F_SHIFT_RIGHT, to, left, right);
+                words.register(isUnsigned(from) ? GROUP_BASE : GROUP_OTHER, F_SHIFT_RIGHT, left, left, right);
             } else {
-                plain(n.op, to, left, right);
+                plain(n.op, left, right);
             }
         }
 
@@ -3225,15 +3314,15 @@ public final class WordFoundry {
             return t.kind == T_UNSIGNED || t.kind == T_POINTER;
         }
 
-        private void plain(int op, int to, int left, int right) {
+        private void plain(int op, int left, int right) {
             switch (op) {
-                case PLUS: words.register(GROUP_BASE, F_ADD, to, left, right); break;
-                case MINUS: words.register(GROUP_OTHER, F_ADD, to, left, right); break;
-                case STAR: words.register(GROUP_M, F_MUL, to, left, right); break;
-                case AMPERSAND: words.register(GROUP_BASE, F_AND, to, left, right); break;
-                case BAR: words.register(GROUP_BASE, F_OR, to, left, right); break;
-                case CARET: words.register(GROUP_BASE, F_XOR, to, left, right); break;
-                default: words.register(GROUP_BASE, F_SHIFT_LEFT, to, left, right); break;
+                case PLUS: words.register(GROUP_BASE, F_ADD, left, left, right); break;
+                case MINUS: words.register(GROUP_OTHER, F_ADD, left, left, right); break;
+                case STAR: words.register(GROUP_M, F_MUL, left, left, right); break;
+                case AMPERSAND: words.register(GROUP_BASE, F_AND, left, left, right); break;
+                case BAR: words.register(GROUP_BASE, F_OR, left, left, right); break;
+                case CARET: words.register(GROUP_BASE, F_XOR, left, left, right); break;
+                default: words.register(GROUP_BASE, F_SHIFT_LEFT, left, left, right); break;
             }
         }
 
@@ -3259,11 +3348,7 @@ public final class WordFoundry {
         private void compare(int op, boolean unsigned, int left, int right) {
             if (op == EQUAL || op == NOT_EQUAL) {
                 words.register(GROUP_OTHER, F_ADD, left, left, right);
-                if (op == EQUAL) {
-                    words.immediate(F_LESS_UNSIGNED, left, left, 1);
-                } else {
-                    words.register(GROUP_BASE, F_LESS_UNSIGNED, left, ZERO, left);
-                }
+                truth(op == NOT_EQUAL, left);
                 return;
             }
             int funct = unsigned ? F_LESS_UNSIGNED : F_LESS;
@@ -3284,13 +3369,11 @@ public final class WordFoundry {
             int end = words.jumpLater(NONE);
             value(n.b, d);
             words.aim(end, words.count);
-            words.register(GROUP_BASE, F_LESS_UNSIGNED, part, ZERO, part);
+            truth(true, part);
         }
 
         private void choice(Node n, int d) {
-            value(n.a, d);
-            words.branch(F_NOT_EQUAL, PART + d, ZERO, 2);
-            int other = words.jumpLater(NONE);
+            int other = jumpUnless(n.a, NONE, d);
             value(n.b, d);
             int end = words.jumpLater(NONE);
             words.aim(other, words.count);
@@ -3298,50 +3381,64 @@ public final class WordFoundry {
             words.aim(end, words.count);
         }
 
-        private void step(Node n, int d) {
+        /** ++ and --: the register that has the value. */
+        private int step(Node n, int d) {
             int base = locate(n.a, d);
             boolean one = isChar(n.a.type);
             Type type = n.a.type;
             words.place = n.a.place;
             words.load(one, OLD, base, offset);
-            words.number(SCRATCH, type != null && type.base != null ? type.base.size : 1);
-            words.register(n.op == INCREMENT ? GROUP_BASE : GROUP_OTHER, F_ADD, FRESH, OLD, SCRATCH);
+            int by = type != null && type.base != null ? type.base.size : 1;
+            if (by < 2048) {
+                words.immediate(F_ADD, FRESH, OLD, n.op == INCREMENT ? by : -by);
+            } else {
+                words.number(SCRATCH, by);
+                words.register(n.op == INCREMENT ? GROUP_BASE : GROUP_OTHER, F_ADD, FRESH, OLD, SCRATCH);
+            }
             if (one) {
                 words.immediate(F_AND, FRESH, FRESH, 255);
             }
             words.store(one, FRESH, base, offset);
-            words.move(PART + d, n.kind == N_BEFORE ? FRESH : OLD);
+            return n.kind == N_BEFORE ? FRESH : OLD;
         }
 
-        private void assign(Node n, int d) {
-            if (n.a.type != null && n.a.type.kind == T_STRUCT) {
-                settle(locate(n.a, d), d);
-                copy(n.a.type, n.a, n.b, d);
-                return;
-            }
+        /** = and op=: the register that has the value. */
+        private int assign(Node n, int d) {
             int part = PART + d;
             int base = locate(n.a, d);
+            if (n.a.type != null && n.a.type.kind == T_STRUCT) {
+                settle(base, d);
+                copy(n.a.type, n.a, n.b, d);
+                return part;
+            }
             int from = offset;
             int right = part;
-            if (base == part) {
+            if (n.op != END && n.b.constant) {
+                // There is nothing to work out, so that it may come behind the left one.
+                right = SECOND;
+            } else if (base == part) {
                 right = second(n.b, d);
             } else {
                 value(n.b, d);
             }
-            boolean one = isChar(n.a.type);
             if (n.op != END) {
                 words.place = n.a.place;
-                words.load(one, OLD, base, from);
-                operate(n, OLD, OLD, right);
+                words.load(isChar(n.a.type), OLD, base, from);
+                if (!operateBy(n, OLD)) {
+                    if (n.b.constant) {
+                        words.number(right, n.b.value);
+                    }
+                    operate(n, OLD, right);
+                }
                 right = OLD;
             }
-            if (one) {
+            if (isChar(n.a.type)) {
                 words.immediate(F_AND, OLD, right, 255);
                 right = OLD;
             }
             words.place = n.a.place;
-            words.store(one, right, base, from);
-            words.move(part, right);
+            words.store(isChar(n.a.type), right, base, from);
+            return right;
         }
 
         /** Copies a struct to the address in register d. Where the left one is a variable by its name, it is null. */
@@ -3499,10 +3596,11 @@ public final class WordFoundry {
             return n - Math.max(open, 0);
         }
 
-        private void trap(int number, int place) {
+        /** The word that was taken last traps. */
+        private void trap(int number) {
             state = TRAPPED;
             result = number;
-            trapPlace = place;
+            trapPlace = placeAhead(pc);
         }
 
         private void end(int value) {
@@ -3511,8 +3609,9 @@ public final class WordFoundry {
             frames = 0;
         }
 
-        private int placeOf(int address) {
-            int at = address >> 2;
+        /** The place of the word ahead of an address. */
+        private int placeAhead(int address) {
+            int at = (address >> 2) - 1;
             return at >= 0 && at < words.count ? words.places[at] : 0;
         }
 
@@ -3525,33 +3624,42 @@ public final class WordFoundry {
             int word = words.code[at];
             int to = word >> 7 & 31;
             int left = x[word >> 15 & 31];
-            int right = x[word >> 20 & 31];
-            int here = pc;
-            pc = here + 4;
+            pc += 4;
             switch (word & 127) {
-                case OP_REGISTER: x[to] = compute(word, left, right); break;
                 case OP_IMMEDIATE: x[to] = computeImmediate(word >> 12 & 7, left, word >> 20); break;
-                case OP_LOAD: load(word, to, left, here); break;
-                case OP_STORE: store(word, left, right, here); break;
+                case OP_LOAD: x[to] = load(word, left + (word >> 20)); break;
+                case OP_STORE: store(word, left + (word >> 25 << 5 | to)); break;
+                case OP_REGISTER: x[to] = compute(word, left, x[word >> 20 & 31]); break;
                 case OP_UPPER: x[to] = word & 0xfffff000; break;
                 case OP_BRANCH:
-                    if ((left == right) == ((word >> 12 & 7) == F_EQUAL)) {
-                        pc = here + branchOffset(word);
+                    if (branches(word >> 12 & 7, left, x[word >> 20 & 31])) {
+                        pc += branchOffset(word) - 4;
                     }
                     break;
                 case OP_JUMP:
-                    x[to] = here + 4;
-                    pc = here + jumpOffset(word);
+                    x[to] = pc;
+                    pc += jumpOffset(word) - 4;
                     break;
                 case OP_JUMP_REGISTER: pc = left; break;
                 default:
                     if (word >>> 20 == 1) {
-                        trap(TRAP_ZERO, placeOf(here));
+                        trap(TRAP_ZERO);
                     } else {
-                        serve(here);
+                        serve();
                     }
             }
             x[ZERO] = 0;
+        }
+
+        private static boolean branches(int funct, int left, int right) {
+            switch (funct) {
+                case F_EQUAL: return left == right;
+                case F_NOT_EQUAL: return left != right;
+                case F_BELOW: return left < right;
+                case F_FROM: return left >= right;
+                case F_BELOW_UNSIGNED: return left + -2147483648 < right + -2147483648;
+                default: return left + -2147483648 >= right + -2147483648;
+            }
         }
 
         private static int branchOffset(int word) {
@@ -3571,11 +3679,7 @@ public final class WordFoundry {
             if (group == GROUP_OTHER) {
                 return funct == F_ADD ? left - right : left >> right;
             }
-            switch (funct) {
-                case F_SHIFT_LEFT: return left << right;
-                case F_SHIFT_RIGHT: return left >>> right;
-                default: return computeImmediate(funct, left, right);
-            }
+            return computeImmediate(funct, left, funct == F_SHIFT_RIGHT ? right & 31 : right);
         }
 
         private static int computeImmediate(int funct, int left, int right) {
@@ -3583,6 +3687,8 @@ public final class WordFoundry {
                 case F_ADD: return left + right;
                 case F_LESS: return left < right ? 1 : 0;
                 case F_LESS_UNSIGNED: return left + -2147483648 < right + -2147483648 ? 1 : 0;
+                case F_SHIFT_LEFT: return left << right;
+                case F_SHIFT_RIGHT: return (right & KEEPS_SIGN) != 0 ? left >> right : left >>> right;
                 case F_XOR: return left ^ right;
                 case F_OR: return left | right;
                 default: return left & right;
@@ -3607,38 +3713,35 @@ public final class WordFoundry {
         }
 
         /** Whether as many bytes can be read or written at an address; if not, it traps. */
-        private boolean opens(int address, int bytes, int here) {
+        private boolean opens(int address, int bytes) {
             if (address < FIRST_ADDRESS || address > size - bytes) {
-                trap(TRAP_ADDRESS, placeOf(here));
+                trap(TRAP_ADDRESS);
                 return false;
             }
             if ((address & bytes - 1) != 0) {
-                trap(TRAP_ALIGNED, placeOf(here));
+                trap(TRAP_ALIGNED);
                 return false;
             }
             return true;
         }
 
-        private void load(int word, int to, int base, int here) {
-            int address = base + (word >> 20);
-            int bytes = (word >> 12 & 7) == F_WORD ? 4 : 1;
-            if (!opens(address, bytes, here)) {
-                return;
+        private int load(int word, int address) {
+            if ((word >> 12 & 7) != F_WORD) {
+                return opens(address, 1) ? memory[address] & 255 : 0;
             }
-            int value = memory[address] & 255;
-            if (bytes == 4) {
-                int high = memory[address + 3] << 24 | (memory[address + 2] & 255) << 16;
-                value |= high | (memory[address + 1] & 255) << 8;
+            if (!opens(address, 4)) {
+                return 0;
             }
-            x[to] = value;
+            int high = memory[address + 3] << 24 | (memory[address + 2] & 255) << 16;
+            return high | (memory[address + 1] & 255) << 8 | memory[address] & 255;
         }
 
-        private void store(int word, int base, int value, int here) {
-            int address = base + (word >> 25 << 5 | word >> 7 & 31);
+        private void store(int word, int address) {
             int bytes = (word >> 12 & 7) == F_WORD ? 4 : 1;
-            if (!opens(address, bytes, here)) {
+            if (!opens(address, bytes)) {
                 return;
             }
+            int value = x[word >> 20 & 31];
             memory[address] = (byte) value;
             if (bytes == 4) {
                 memory[address + 1] = (byte) (value >> 8);
@@ -3647,9 +3750,9 @@ public final class WordFoundry {
             }
         }
 
-        private void serve(int here) {
+        private void serve() {
             switch (x[SERVICE]) {
-                case ASK_ROUND: round(here); break;
+                case ASK_ROUND: round(); break;
                 case ASK_ENTER: enter(); break;
                 case ASK_LEAVE: leave(); break;
                 case ASK_GET: x[ARGUMENT] = nextInput(); break;
@@ -3670,10 +3773,10 @@ public final class WordFoundry {
         }
 
         /** A ROUND begins, or the machine rests ahead of it. */
-        private void round(int here) {
+        private void round() {
             open--;
             if (open < 0) {
-                pc = here;
+                pc -= 4;
             } else {
                 rounds++;
             }
@@ -3681,9 +3784,10 @@ public final class WordFoundry {
 
         private void enter() {
             int sp = x[SP] - x[SCRATCH];
-            int callPlace = frames == 0 ? NONE : placeOf(x[RETURN_TO] - 4);
+            int callPlace = frames == 0 ? NONE : placeAhead(x[RETURN_TO]);
             if (frames >= MOST_FRAMES || sp < program.dataEnd) {
-                trap(TRAP_FRAME, callPlace);
+                trap(TRAP_FRAME);
+                trapPlace = callPlace;
                 return;
             }
             int row = frames * FRAME_ROW;
