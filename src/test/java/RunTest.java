@@ -212,6 +212,47 @@ public final class RunTest {
         b.ends(-3, "int main() { int i = -6; unsigned u = 1; i >>= u; return i; }");
         b.ends(12, "int a[5]; int main() { int *p = a; p++; p += 3; p -= 1; return (char *) p - (char *) a; }");
         b.ends(3, "int a[5]; int main() { int *p = &a[4]; return p - (a + 1); }");
+        String moved = "int a[9]; struct A { char c[2100]; }; int main() { int i = 3; char *base = (char *) a; int *p = a; struct A *f = (struct A *) a; ";
+        b.ends(12, moved + "return (char *) (p + i) - base; }");
+        b.ends(12, moved + "return (char *) (i + p) - base; }");
+        b.ends(-12, moved + "return (char *) (p - i) - base; }");
+        b.ends(12, moved + "p += i; return (char *) p - base; }");
+        b.ends(-12, moved + "p -= i; return (char *) p - base; }");
+        b.ends(8, moved + "return (char *) (2 + p) - base; }");
+        b.ends(6300, moved + "f += i; return (char *) f - base; }");
+        b.ends(2100, moved + "f++; return (char *) f - base; }");
+        b.ends(-2100, moved + "--f; return (char *) f - base; }");
+        b.ends(4200, moved + "return (char *) (f + 2) - base; }");
+        b.ends(-8400, moved + "f -= 4; return (char *) f - base; }");
+        for (int by : new int[] {2046, 2047, 2048, 2049, -2047, -2048, -2049, -2050, 65536, Integer.MAX_VALUE, Integer.MIN_VALUE + 1}) {
+            String made = "int main() { int k = 9; ";
+            b.ends(9 + by, made + "return k + " + by + "; }");
+            b.ends(9 - by, made + "k -= " + by + "; return k; }");
+            b.ends(9 & by | 256, made + "return k & " + by + " | 256; }");
+            b.ends((9 ^ by) + 1, made + "k ^= " + by + "; return k + 1; }");
+            b.ends(9 | by, made + "k |= " + by + "; return k; }");
+            b.ends(9 < by ? 1 : 0, made + "return k < " + by + "; }");
+            b.ends(1, made + "k = " + by + "; return k == " + by + "; }");
+            b.ends(0, made + "k = " + by + "; return k != " + by + "; }");
+            b.ends(9 < by ? 4 : 5, made + "if (k < " + by + ") return 4; return 5; }");
+        }
+        String signs = "int main() { int i = -1; unsigned u = 3; int z = 0; ";
+        b.ends(0, signs + "return i < (unsigned) 5; }");
+        b.ends(1, signs + "return u < -1; }");
+        b.ends(1, signs + "return u < (unsigned) -1; }");
+        b.ends(0, signs + "return u < -1 + 1; }");
+        b.ends(21, signs + "int r = 0; if (i < (unsigned) 5) r += 1; if (u < -1) r += 4; if (i > u) r += 16; if (u >= i) r += 32; if (i <= u) r += 64; return r + 1; }");
+        b.ends(31, signs + "int r = 0; if (i < z) r += 1; if (z > i) r += 2; if (i <= z) r += 4; if (z >= i) r += 8; if (i != z) r += 16; if (i == z) r += 32; return r; }");
+        b.ends(-1, signs + "return i >> 31; }");
+        b.ends(1, signs + "return (unsigned) i >> 31; }");
+        b.ends(-1, signs + "i >>= 33; return i; }");
+        b.ends(-2, signs + "return i << 33; }");
+        b.ends(63, signs + "int r = 0; while (i < 5 && u > 0) { r = r * 2 + 1; i++; u -= i > 8; } return r; }");
+        StringBuilder many = new StringBuilder();
+        for (int k = 0; k < 40; k++) {
+            many.append("int f").append(k).append("() { return ").append(k == 0 ? "7" : "f" + (k - 1) + "() + 1").append("; } ");
+        }
+        b.ends(46, many + "int main() { return f39(); }");
         b.ends(-3, "int a[5]; int main() { return &a[1] - &a[4]; }");
         b.ends(-1, "struct A { int a[3]; }; struct A s[4]; int main() { return (struct A *) ((char *) s - 23) - s; }");
         b.ends(1, "int m[3][4]; int main() { m[2][1] = 5; return *(*(m + 2) + 1) == 5 && &m[1] - &m[0] == 1 && (char *) &m[1] - (char *) m == 16; }");
@@ -370,6 +411,9 @@ public final class RunTest {
         b.traps(2, s + "struct A k = @*n; }");
         b.traps(2, s + "struct A k = (1, 2, n@[3]); }");
         b.traps(2, s + "m = (struct B *) 4092; e = @*m; }");
+        b.traps(2, s + "m = (struct B *) 63; e = @*m; }");
+        b.traps(2, s + "m = (struct B *) 63; @*m = e; }");
+        b.ends(0, s + "m = (struct B *) 64; e = *m; return 0; }");
         b.ends(0, s + "m = (struct B *) 4091; e = *m; return e.c[0]; }");
         b.ends(0, s + "m = (struct B *) 65; e = *m; return 0; }");
         b.ends(6, s + "a.v = 6; struct A k = a; a.v = 1; struct A l = (1, k); return l.v; }");
