@@ -2,6 +2,8 @@
 final class Bench {
     private int wrong = 0;
     private int asked = 0;
+    private String sentence = "";
+    private int askedBefore = -1;
     private WordFoundry foundry = new WordFoundry();
 
     /** A new object, for what a test does next. */
@@ -14,7 +16,33 @@ final class Bench {
         asked++;
         if (got != want) {
             wrong++;
+            tellSentence();
             System.out.println(what + ": answered " + got + ", due is " + want);
+        }
+    }
+
+    void due(String what, String got, String want) {
+        asked++;
+        if (!got.equals(want)) {
+            wrong++;
+            tellSentence();
+            System.out.println(what + ": answered " + got + ", due is " + want);
+        }
+    }
+
+    /** Names the sentence of the document to which the next answers belong. Each one must have some. */
+    void about(String quoted) {
+        if (asked == askedBefore) {
+            wrong++;
+            System.out.println("nothing was asked about: " + sentence);
+        }
+        askedBefore = asked;
+        sentence = quoted;
+    }
+
+    private void tellSentence() {
+        if (!sentence.isEmpty()) {
+            System.out.println("[" + sentence + "]");
         }
     }
 
@@ -24,6 +52,7 @@ final class Bench {
 
     /** Ends the test, with exit code 1 if an answer was wrong. */
     void close() {
+        about("");
         System.out.println(asked + " answers, " + wrong + " wrong");
         if (wrong != 0 || asked == 0) {
             System.exit(1);
@@ -86,6 +115,21 @@ final class Bench {
         run(x);
         due("state " + text, x.look(1), 3);
         due("ended " + text, x.look(2), value);
+    }
+
+    /** All that can be seen of an object's state without changing it, but for bytes and things beyond the first ones. */
+    static String state(WordFoundry x) {
+        StringBuilder s = new StringBuilder();
+        for (int what = 0; what <= 12; what++) {
+            s.append(x.look(what)).append(' ');
+        }
+        for (int i = 0; i < 3; i++) {
+            s.append("| ").append(x.out(i)).append(' ').append(x.peek(64 + i)).append(' ').append(x.peek(1020 + i)).append(' ');
+            for (int what = 0; what < 3; what++) {
+                s.append(x.frame(i, what)).append(' ').append(x.thing(i, what + 1)).append(' ');
+            }
+        }
+        return s.toString();
     }
 
     /** Runs up to 50000 ROUNDS. */
