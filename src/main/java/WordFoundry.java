@@ -67,7 +67,7 @@ public final class WordFoundry {
     private static final int W_SIZEOF = 27;
 
     // The first eighteen are no names; the others are names that the document itself knows.
-    private static final String WORDS = 
+    private static final String WORDS =
         "int char unsigned void struct enum if else while do for switch case default break continue return sizeof get put halt main ";
     private static final int WORD_COUNT = 18;
     private static final int NAME_GET = 18;

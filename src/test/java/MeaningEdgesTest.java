@@ -108,6 +108,14 @@ public final class MeaningEdgesTest {
             b.fault(4, one + " int @a(int c) { }" + MAIN);
         }
         b.right("int a(); int a(); int a() { } int a();" + MAIN);
+        b.about("the text's stretch goes on behind a function");
+        b.fault(4, "int a; int f(int c) { int a; } int @a;" + MAIN);
+        b.fault(4, "enum { a }; void f() { { } } int g(int a); int @a;" + MAIN);
+        b.fault(4, "void f() { } int @get;" + MAIN);
+        b.fault(4, "int a; void f() { } int @a();" + MAIN);
+        b.right("int a; int f() { return a; } int c; int g() { return a + c + f(); } int h() { return c + g(); }" + MAIN);
+        b.right("void f() { for (int a; ; ) { int a; } } int a; void g() { int a; } int c; int h(int c) { return a + c; } int k() { return a + c; }" + MAIN);
+        b.about("A name that is told again in its stretch: 4 AT it");
         for (String two : new String[] {"int @a;", "int x, @a;", "char @a[3];"}) {
             b.fault(4, "int main() { int a; " + two + " }");
             b.fault(4, "int main() { { int a; { int a; } " + two + " } }");
@@ -312,6 +320,9 @@ public final class MeaningEdgesTest {
         b.fault(12, "int a; int @a[4097];" + MAIN);
         b.fault(12, "struct A { char a[16384]; char @a; };" + MAIN);
         b.fault(4, "int a; int @a[4096];" + MAIN);
+        b.fault(12, "int main() { int a; int @a[4097]; }");
+        b.fault(4, "int main() { int a; int @a[4096]; }");
+        b.fault(12, "int main() { int @b[4096]; }");
         b.about("The first of a PARAM's DIMS makes it a pointer to the rest");
         b.ends(4, "int f(int a[3][5]) { return sizeof a; } int main() { return f(0); }");
         b.ends(20, "int f(int a[3][5]) { return sizeof *a; } int main() { return f(0); }");

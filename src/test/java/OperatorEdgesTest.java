@@ -52,7 +52,125 @@ public final class OperatorEdgesTest {
         parts(b);
         calls(b);
         sizes(b);
+        ranks(b);
+        folds(b);
+        results(b);
         b.close();
+    }
+
+    // Operators between parts, from the loosest rank to the tightest one.
+    private static final String[][] RANKS = {{"||"}, {"&&"}, {"|"}, {"^"}, {"&"}, {"==", "!="}, {"<", ">", "<=", ">="}, {"<<", ">>"}, {"+", "-"}, {"*", "/", "%"}};
+
+    private static int worked(String op, int a, int c) {
+        switch (op) {
+            case "||": return a != 0 || c != 0 ? 1 : 0;
+            case "&&": return a != 0 && c != 0 ? 1 : 0;
+            case "|": return a | c;
+            case "^": return a ^ c;
+            case "&": return a & c;
+            case "==": return a == c ? 1 : 0;
+            case "!=": return a != c ? 1 : 0;
+            case "<": return a < c ? 1 : 0;
+            case ">": return a > c ? 1 : 0;
+            case "<=": return a <= c ? 1 : 0;
+            case ">=": return a >= c ? 1 : 0;
+            case "<<": return a << c;
+            case ">>": return a >> c;
+            case "+": return a + c;
+            case "-": return a - c;
+            case "*": return a * c;
+            case "/": return c == 0 ? 0 : a / c;
+            default: return c == 0 ? 0 : a % c;
+        }
+    }
+
+    private static void ranks(Bench b) {
+        b.about("BINARY: UNARY and operators between, from the loosest: ..; of one rank to the left");
+        for (int i = 0; i < RANKS.length; i++) {
+            for (int k = 0; k < RANKS.length; k++) {
+                for (String first : RANKS[i]) {
+                    for (String second : RANKS[k]) {
+                        rank(b, first, second, i >= k);
+                    }
+                }
+            }
+        }
+    }
+
+    /** Three numbers between which it makes a difference which operator is worked out first, as far as there are such. */
+    private static void rank(Bench b, String first, String second, boolean toTheLeft) {
+        int[] numbers = {0, 1, 2, 3, 5, 7};
+        for (int x : numbers) {
+            for (int y : numbers) {
+                for (int z : numbers) {
+                    int left = worked(second, worked(first, x, y), z);
+                    int right = worked(first, x, worked(second, y, z));
+                    boolean zero = (first + second).matches(".*[/%].*") && (y == 0 || z == 0 || worked(second, y, z) == 0);
+                    if (left != right && !zero) {
+                        String e = x + " " + first + " " + y + " " + second + " " + z;
+                        b.ends(toTheLeft ? left : right, "int main() { return " + e + "; }");
+                        b.ends(toTheLeft ? left : right, "int main() { int x = " + x + ", y = " + y + ", z = " + z + "; return x " + first + " y " + second + " z; }");
+                        return;
+                    }
+                }
+            }
+        }
+    }
+
+    private static String number(int value) {
+        return value == Integer.MIN_VALUE ? "(-2147483647 - 1)" : "(" + value + ")";
+    }
+
+    private static void folds(Bench b) {
+        b.about("what an operator makes of constant ones is what it makes of others");
+        int[] numbers = {0, 1, -1, 2, 7, -7, 31, Integer.MAX_VALUE, Integer.MIN_VALUE};
+        for (String[] rank : RANKS) {
+            for (String op : rank) {
+                for (int x : numbers) {
+                    StringBuilder constant = new StringBuilder("int main() { int r = 0; ");
+                    StringBuilder variable = new StringBuilder("int main() { int r = 0, x = " + number(x) + ", z; ");
+                    int due = 0;
+                    for (int z : numbers) {
+                        if ((op.equals("/") || op.equals("%")) && z == 0) {
+                            continue;
+                        }
+                        due = due * 3 + worked(op, x, z);
+                        constant.append("r = r * 3 + (").append(number(x)).append(op).append(number(z)).append("); ");
+                        variable.append("z = ").append(number(z)).append("; r = r * 3 + (x ").append(op).append(" z); ");
+                    }
+                    b.ends(due, constant + "return r; }");
+                    b.ends(due, variable + "return r; }");
+                }
+            }
+        }
+    }
+
+    private static void results(Bench b) {
+        b.about("the type of what an operator makes");
+        String[] pointers = {"p + 1", "1 + p", "p - 1", "arr + i", "i + arr", "p++", "++p", "p--", "--p", "p = 0", "p += 1", "p -= 1", "&i", "&arr[1]", "(int *) q", "i ? p : 0", "i ? 0 : p", "(1, p)", "(1, arr)", "m[1]",
+            "*m", "s.r", "ps->r", "&*p", "&ps->a"};
+        for (String e : pointers) {
+            b.rightIn("p = (" + e + "); *(" + e + "); (" + e + ")[1]; (" + e + ") - p; (" + e + ") == p; p - (" + e + ");");
+            b.faultIn(5, "q @= (" + e + ");");
+            b.faultIn(5, "i @= (" + e + ");");
+            b.faultIn(5, "(" + e + ") @* 2;");
+        }
+        String[] numbers = {"p - p", "arr - p", "p == p", "p != 0", "p < p", "p >= arr", "!p", "p && p", "p || i", "sizeof p", "i + u", "c * c", "-c", "(int) p", "*p", "f(1, q)", "i = 1", "c = 1", "i ? 1 : u", "(p, 1)"};
+        for (String e : numbers) {
+            b.rightIn("i = (" + e + "); c = (" + e + "); (" + e + ") * 2; arr[" + e + "]; p + (" + e + "); switch (" + e + ") { }");
+            b.faultIn(5, "p @= (" + e + ");");
+            b.faultIn(5, "@*(" + e + ");");
+        }
+        for (String e : new String[] {"p - p", "p == p", "p < p", "!u", "u && u", "u < u", "u == u", "sizeof u", "c - c", "(char) u", "i ? c : i"}) {
+            // They are int's: one less than 0 is below it.
+            b.ends(1, Bench.WORLD + "int main() { return (" + e + ") - 9 < 0; }");
+        }
+        for (String e : new String[] {"u", "-u", "~u * 0", "u + 0", "0 + u", "u - c", "i & u", "u | i", "u << i", "u >> i", "u = 1", "u += 1", "u++", "++u", "i ? u : i", "i ? i : u", "(0, u)", "(unsigned) i"}) {
+            b.ends(0, Bench.WORLD + "int main() { return (" + e + ") - 9 < 0; }");
+        }
+        for (String e : new String[] {"i << u", "i >> u", "c << u", "i = u", "i += u", "c = u"}) {
+            b.ends(1, Bench.WORLD + "int main() { return (" + e + ") - 9 < 0; }");
+        }
     }
 
     private static void told(Bench b, int fault, String marked) {

@@ -388,6 +388,12 @@ public final class RunEdgesTest {
             b.ends(0, s + e + "; return 0; }");
         }
         b.ends(0, s + "for (*n; 0; *n) ; return 0; }");
+        String near = "struct K { char a; char b; char c[3]; int d; }; struct K k, *p = &k; int main() { ";
+        b.ends(1, near + "return &p->b - &p->a; }");
+        b.ends(2, near + "return p->c - &p->a; }");
+        b.ends(8, near + "return (char *) &p->d - &p->a; }");
+        b.ends(3, near + "return &p->c[1] - &p->a; }");
+        b.ends(13, near + "return &p[1].b - &p->a; }");
         b.about("what stands as E ;, at the left of , , as for's third E, in a CAST to void reads a scalar VARIABLE");
         for (String e : new String[] {"@*p;", "n@->v;", "p@[0];", "(@*p);", "@*p, 1;", "(void) @*p;", "(void) (1, @*p);", "for (@*p; ; ) ;", "for (; ; @*p) ;", "for (; ; 1, @*p) ;", "for (; ; (void) @*p) ;",
             "if (1) @*p;", "1 ? @*p : 0;"}) {

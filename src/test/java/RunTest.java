@@ -17,6 +17,8 @@ public final class RunTest {
         structCopies(b);
         reads(b);
         deep(b);
+        atTheRight(b);
+        longTexts(b);
         b.close();
     }
 
@@ -480,5 +482,43 @@ public final class RunTest {
         b.ends(sum, "int f(int n) { return (" + within + ") * 0; } int main() { int v = 3; return " + waiting + "; }");
         // What waits in registers outlives a call that uses the same ones.
         b.ends(55, "int f(int n) { return n ? n + (n * 0 + (n * 0 + f(n - 1))) : 0; } int main() { return f(10); }");
+    }
+
+    /** Every kind of part behind one, two and many others that wait for it. */
+    private static void atTheRight(Bench b) {
+        String ahead = "struct S { char c; char d; int v; int r[3]; }; struct S s, *ps = &s; char far[3000]; int g = 4; char gc = 200; int a[5]; int n; "
+            + "int f(int x, int y) { n++; return x * 10 + y; } int main() { int i = 3, j = 5; char c = 7; int *p = a; unsigned u = 9; a[1] = 11; a[2] = 22; s.v = 33; s.d = 44; ps->r[1] = 55; ";
+        String[] parts = {"i", "g", "gc", "c", "17", "5000", "-i", "~i", "!i", "!c", "i + j", "i - 2000", "i * j", "i / 2", "j % i", "i << 2", "u >> 1", "i < j", "j < i", "i <= 3", "i >= j", "i == 3", "i != 3", "i && j",
+            "i && !j", "!i || j", "!i || !j", "i ? j : 8", "!i ? j : 8", "i < j ? 1 : 2", "i > j ? 1 : 2", "i && j ? 4 : 6", "i == j ? g : gc", "(i, j)", "a[1]", "a[i - 1]", "*p", "p[2]", "*(p + 1)", "s.v", "ps->v",
+            "s.r[1]", "ps->r[i - 2]", "ps->d", "(char) 300", "(char) (g + 252)", "f(i, j)", "f(f(1, 2), f(3, 4))", "f(i, a[f(0, 2)])", "sizeof i", "&a[3] - p", "p == a", "a[i < j]", "i - (j - (g - c))",
+            "i ? j ? 1 : 2 : 3", "(i < j) + (j < i) * 2", "a[1] > a[2] ? a[1] : a[2]", "'x'", "u / 2", "\"abc\"[i - 2]"};
+        int[] due = {3, 4, 200, 7, 17, 5000, -3, -4, 0, 0, 8, -1997, 15, 1, 2, 12, 4, 1, 0, 1, 0, 1, 0, 1, 0, 1, 0, 5, 8, 1, 2, 4, 200, 5, 11, 22, 0, 22, 11, 33, 33, 55, 55, 44, 44, 0, 35, 154, 52, 4, 3, 1, 11, -5, 1, 1,
+            22, 120, 4, 'b'};
+        String[] around = {"#", "1000 - #", "g + (i - #)", "i + (i + (i + (i + (i + (i + (i + (i + (i + (i + (i + (i + (i + (i + (i + #))))))))))))))", "f(1, #)", "f(#, 1)", "a[3] = #", "i ? # : 0", "0 ? 1 : #",
+            "(1, #)", "*(p + 4) += #", "f(i, f(j, #))", "j * (i < j ? # : 9)", "1 + (# < 20 ? 1 : 2)", "1 + (# ? 1 : 2)", "1 + (i && #)", "1 + (!i || #)", "1 + !#", "1 + a[1 + !#]", "-#", "(i + 1) * (# == 3)"};
+        for (int k = 0; k < parts.length; k++) {
+            int v = due[k];
+            int[] outer = {v, 1000 - v, 4 + 3 - v, 45 + v, 10 + v, v * 10 + 1, v, v, v, v, v, 30 + 50 + v, 5 * v, v < 20 ? 2 : 3, v != 0 ? 2 : 3, v != 0 ? 2 : 1, v != 0 ? 2 : 1, v == 0 ? 2 : 1, v == 0 ? 23 : 12, -v, v == 3 ? 4 : 0};
+            for (int m = 0; m < around.length; m++) {
+                b.ends(outer[m], ahead + "return " + around[m].replace("#", "(" + parts[k] + ")") + "; }");
+            }
+        }
+    }
+
+    /** Bodies of thousands of words, over which jumps go in both directions; each text fills most of the tape. */
+    private static void longTexts(Bench b) {
+        WordFoundry x = b.fresh();
+        String ahead = "struct A{int a;};char z[3000];struct A a,b;int f(int n){return n+1;}int main(){int i=2;b.a=7;";
+        for (int many : new int[] {300, 600, 900}) {
+            String body = "a=b;".repeat(many) + "z[9]++;";
+            String text = ahead + "while(i--){" + body + "}if(a.a==8){z[9]=0;" + "}else z[9]+=10;return f(z[9]);}";
+            b.due(many + " copies", Bench.cast(x, text), 0);
+            b.due("begin", x.begin(8192), true);
+            x.go(9);
+            b.due("ended with " + many, x.look(2), 13);
+            text = ahead + "if(i==3){" + body + "}for(;i<4;i++){if(i==2)continue;z[9]+=2;}switch(i){case 9:" + "a=b;".repeat(9) + "case 4:z[9]++;}return f(z[9]);}";
+            b.due("a jump over " + many + " copies", Bench.cast(b.fresh(), text), 0);
+            b.ends(4, text.replace("z[3000]", "z[300]"));
+        }
     }
 }

@@ -8,6 +8,7 @@ public final class TokenEdgesTest {
         notes(b);
         longest(b);
         names(b);
+        manyNames(b);
         words(b);
         numbers(b);
         signs(b);
@@ -116,6 +117,34 @@ public final class TokenEdgesTest {
         b.ends(3, "int main() { int " + most + " = 1; int " + most.substring(0, 23) + "x = 2; return " + most + " + " + most.substring(0, 23) + "x; }");
     }
 
+    /** Texts that consist of as many different names, and as many signs of names, as they can hold. */
+    private static void manyNames(Bench b) {
+        b.about("a text may be full of names");
+        String signs = "abcdefghijklmnopqrstuvwxyzABCDEFGHIJKLMNOPQRSTUVWXYZ_";
+        String ahead = "int main(){int zz0;";
+        StringBuilder few = new StringBuilder(ahead);
+        for (int k = 0; few.length() < 4090; k++) {
+            String name = signs.substring(k / 53, k / 53 + 1) + signs.charAt(k % 53);
+            few.append(WORDS.contains(name) ? "" : name).append(';');
+        }
+        b.due("the first of them isn't known", Bench.cast(b.fresh(), few + "}"), 16 * ahead.length() + 3);
+        StringBuilder wide = new StringBuilder(ahead);
+        for (int k = 0; wide.length() < 4070; k++) {
+            wide.append("abcdefghijklmnopqrstuv").append(signs.charAt(k / 53 % 53)).append(signs.charAt(k % 53)).append(';');
+        }
+        b.due("nor is the first long one", Bench.cast(b.fresh(), wide + "}"), 16 * ahead.length() + 3);
+        StringBuilder told = new StringBuilder("char ");
+        for (int k = 0; k < 499; k++) {
+            told.append(k == 0 ? "" : ",").append("q").append(signs.charAt(k / 53)).append(signs.charAt(k % 53));
+        }
+        String end = ";int main(){qaa=1;qab=2;qjv=3;return qaa+qab*10+qjv*100;}";
+        WordFoundry x = b.fresh();
+        b.due("499 names that are told", Bench.cast(x, told + end), 0);
+        x.begin(1024);
+        x.go(1);
+        b.due("each is one of its own", x.look(2), 321);
+    }
+
     private static void words(Bench b) {
         b.about("WORDS, which are no names");
         for (String word : WORDS.split(" ")) {
@@ -222,6 +251,17 @@ public final class TokenEdgesTest {
             if (!isEscape(c)) {
                 b.fault(1, "int main() { return @\"a\\" + (char) c + "b\"[1]; }");
             }
+        }
+        b.about("an ESCAPE is one sign, of its own value");
+        int[] bytes = {10, 'a', 9, 'b', 13, 'c', 0, 'd', 92, 'e', 39, 'f', 34, 'n', 0};
+        String signs = "\"\\na\\tb\\rc\\0d\\\\e\\'f\\\"n\"";
+        WordFoundry x = b.fresh();
+        b.due(signs, Bench.cast(x, "char a[] = " + signs + "; char *p = " + signs + "; int main() { }"), 0);
+        b.due("how many", x.thing(0, 2), bytes.length);
+        x.begin(1024);
+        for (int k = 0; k < bytes.length; k++) {
+            b.due("in an array " + k, x.peek(64 + k), bytes[k]);
+            b.due("behind the variables " + k, x.peek(64 + 16 + 4 + k), bytes[k]);
         }
         b.fault(2, "int main() { return \"a\"@b; }");
         for (String wrong : new String[] {"\"", "\"a", "\"a\\", "\"a\\\"", "\"a\nb\"", "\"a\u0001"}) {
