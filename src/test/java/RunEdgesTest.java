@@ -363,6 +363,13 @@ public final class RunEdgesTest {
         b.traps(2, s + "d = (struct C *) 4092; c = @*d; }");
         b.traps(2, s + "d = (struct C *) 63; c = @*d; }");
         b.traps(2, s + "d = (struct C *) 63; @*d = c; }");
+        b.traps(2, s + "d = (struct C *) 63; e = &c; *e = @*d; }");
+        b.traps(2, s + "d = (struct C *) 63; e = &c; @*d = *e; }");
+        b.traps(2, s + "d = (struct C *) 4092; e = &c; *e = @*d; }");
+        b.traps(2, s + "d = (struct C *) 4092; e = &c; @*d = *e; }");
+        b.ends(12, s + "w.v = 5; struct W k; int i = 7 + (k = w, p = &k, p->v); return i; }");
+        b.ends(18, s + "w.v = 5; p = &w; struct W k; q = &k; return 7 + (6 + (*q = *p, k.v)); }");
+        b.traps(2, s + "p = 0; q = &w; return 7 + (@*p = *q, 1); }");
         b.traps(2, s + "p = q = 0; *p = @*q; }");
         b.traps(3, s + "p = 0; q = (struct W *) 65; *p = @*q; }");
         b.traps(2, s + "p = 0; q = &w; @*p = *q; }");
@@ -402,6 +409,29 @@ public final class RunEdgesTest {
     }
 
     private static void wraps(Bench b) {
+        b.about("What comes into a char has its lowest byte");
+        for (int value : new int[] {0, 1, 127, 128, 254, 255, 256, 257, 511, -1, -255, -256, 0x12345601}) {
+            b.ends(value & 255, "int main() { int i = " + value + "; return (char) i; }");
+            b.ends(value & 255, "int main() { int i = " + value + "; char c = i; return c; }");
+            b.ends(value & 255, "int main() { int i = " + value + "; char c; return c = i; }");
+            b.ends((value & 255) + 1, "int main() { int i = " + value + "; char c; return 1 + (c = i); }");
+            b.ends(value + 1 & 255, "int main() { char c = " + value + "; return ++c; }");
+            b.ends(value - 1 & 255, "int main() { char c = " + value + "; return c -= 1; }");
+            b.ends(value * 3 & 255, "int main() { char c = " + value + "; char *p = &c; *p *= 3; return c; }");
+            b.ends(value & 255, "char f(int i) { return i; } int main() { return f(" + value + "); }");
+            b.ends(value & 255, "int f(char c) { return c; } int main() { return f(" + value + "); }");
+        }
+        b.about("op= through a pointer, with constants of any size");
+        for (int value : new int[] {1, 2, 3, 7, 2047, 2048, -2048, -2049, 65535, 1000000}) {
+            String set = "int a[3] = {1, 1000, 1}; int main() { int *p = a; int v = " + value + "; ";
+            String[] ops = {"+", "-", "*", "/", "%", "&", "|", "^"};
+            int[] due = {1000 + value, 1000 - value, 1000 * value, 1000 / value, 1000 % value, 1000 & value, 1000 | value, 1000 ^ value};
+            for (int k = 0; k < ops.length; k++) {
+                b.ends(due[k], set + "p[1] " + ops[k] + "= " + value + "; return a[1] + a[0] - a[2]; }");
+                b.ends(due[k], set + "p[1] " + ops[k] + "= v; return a[1] + a[0] - a[2]; }");
+                b.ends(due[k] + 5, set + "return 5 + (*(p + 1) " + ops[k] + "= " + value + "); }");
+            }
+        }
         b.about("Addresses, distances and int's wrap");
         b.ends(-4, "int main() { int *p = 0; p--; return (int) p; }");
         b.ends(0, "int main() { int *p = (int *) 0xfffffffc; p++; return (int) p; }");

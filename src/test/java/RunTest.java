@@ -19,6 +19,12 @@ public final class RunTest {
         deep(b);
         atTheRight(b);
         longTexts(b);
+        truths(b);
+        loops(b);
+        offsets(b);
+        elements(b);
+        manyArguments(b);
+        waiting(b);
         b.close();
     }
 
@@ -520,5 +526,125 @@ public final class RunTest {
             b.due("a jump over " + many + " copies", Bench.cast(b.fresh(), text), 0);
             b.ends(4, text.replace("z[3000]", "z[300]"));
         }
+    }
+
+    /** Each comparison as an E of if, while, do, for, && and !, on both sides of its edge. */
+    private static void truths(Bench b) {
+        String[] ops = {"<", ">", "<=", ">=", "==", "!="};
+        for (int k = 0; k < ops.length; k++) {
+            for (int left = 4; left <= 6; left++) {
+                boolean holds = k == 0 ? left < 5 : k == 1 ? left > 5 : k == 2 ? left <= 5 : k == 3 ? left >= 5 : k == 4 ? left == 5 : left != 5;
+                for (String type : new String[] {"int", "unsigned", "char"}) {
+                    String made = "int main() { int r = 0; " + type + " i = " + left + ", five = 5; ";
+                    String e = "i " + ops[k] + " five";
+                    b.ends(holds ? 3 : 4, made + "if (" + e + ") r = 3; else r = 4; return r; }");
+                    b.ends(holds ? 3 : 0, made + "if (" + e + ") r = 3; return r; }");
+                    b.ends(holds ? 0 : 3, made + "if (!(" + e + ")) r = 3; return r; }");
+                    b.ends(holds ? 1 : 0, made + "while (" + e + ") { r++; break; } return r; }");
+                    b.ends(holds ? 2 : 1, made + "do { r++; if (r == 2) break; } while (" + e + "); return r; }");
+                    b.ends(holds ? 1 : 0, made + "for (; " + e + "; ) { r++; break; } return r; }");
+                    b.ends(holds ? 3 : 4, made + "if (five && " + e + ") r = 3; else r = 4; return r; }");
+                    b.ends(holds ? 3 : 4, made + "if (" + e + " && " + e + " && i) r = 3; else r = 4; return r; }");
+                    b.ends(holds ? 3 : 4, made + "if (r || " + e + ") r = 3; else r = 4; return r; }");
+                    b.ends(holds ? 1 : 0, made + "return " + e + "; }");
+                    b.ends(holds ? 3 : 4, made + "if (" + e.replace("five", "5") + ") r = 3; else r = 4; return r; }");
+                }
+            }
+        }
+        b.ends(3, "int main() { if (1) return 3; return 4; }");
+        b.ends(4, "int main() { if (0) return 3; return 4; }");
+        b.ends(3, "int main() { int *p = (int *) 4; if (p) return 3; return 4; }");
+        b.ends(4, "int main() { int *p = 0; if (p) return 3; return 4; }");
+    }
+
+    /** break, continue and return among loops within loops. */
+    private static void loops(Bench b) {
+        String count = "int main() { int r = 0; for (int i = 0; i < 5; i++) { ";
+        b.ends(5 * 2 + 300, count + "for (int k = 0; k < 4; k++) { if (k < 2) continue; r++; } if (i > 2) continue; r += 100; } return r; }");
+        b.ends(5 * 2 + 300, count + "int k = 0; while (k < 4) { k++; if (k < 3) continue; r++; } if (i > 2) continue; r += 100; } return r; }");
+        b.ends(5 * 2 + 300, count + "int k = 0; do { k++; if (k < 3) continue; r++; } while (k < 4); if (i > 2) continue; r += 100; } return r; }");
+        b.ends(3 * 2 + 200, count + "for (int k = 0; ; k++) { if (k == 2) break; r++; } if (i == 2) break; r += 100; } return r; }");
+        b.ends(3 * 2 + 200, count + "int k = 0; while (1) { if (k++ == 2) break; r++; } if (i == 2) break; r += 100; } return r; }");
+        b.ends(3 * 2 + 200, count + "int k = 0; do { if (k++ == 2) break; r++; } while (1); if (i == 2) break; r += 100; } return r; }");
+        b.ends(200, count + "switch (i) { case 0: break; case 1: continue; default: r += 50; break; } if (i == 3) break; r += 50; } return r; }");
+        b.ends(120, count + "switch (1) { case 1: for (;;) { break; } r += 20; break; default: r = 1; } if (i == 4) continue; r += 5; } return r; }");
+        b.ends(7, "int g = 7; void f(int n) { if (n) return; g = 9; } int main() { f(1); return g; }");
+        b.ends(9, "int g = 7; void f(int n) { if (n) return; g = 9; } int main() { f(0); return g; }");
+        b.ends(0, "int put2() { return 5; } void main() { put(1); if (put2()) return; halt(3); }");
+        b.ends(4, "int f(int n) { for (;;) { while (1) { switch (n) { case 1: return 4; default: return 6; } } } } int main() { return f(1); }");
+    }
+
+    /** Variables and fields about the places from which on an offset of 12 bits is too small. */
+    private static void offsets(Bench b) {
+        for (int place = 2040; place <= 2056; place++) {
+            String one = "int main() { char z[" + place + "]; char c = 5; z[0] = 1; c += 2; c++; char *p = &c; *p *= 2; return c + z[0] + (p - z == " + place + "); }";
+            b.ends(18, one);
+            b.ends(18, "char z[" + (place - 64) + "]; char c = 5; " + "int main() { z[0] = 1; c += 2; c++; char *p = &c; *p *= 2; return c + z[0] + ((int) p == " + place + "); }");
+            String field = "struct S { char z[" + place + "]; char c; }; ";
+            b.ends(18, field + "int main() { struct S s; s.z[0] = 1; s.c = 5; s.c += 2; s.c++; char *p = &s.c; *p *= 2; return s.c + s.z[0] + (p - s.z == " + place + "); }");
+            b.ends(18, field + "struct S s; int main() { struct S *q = &s; q->z[0] = 1; q->c = 5; q->c += 2; q->c++; char *p = &q->c; *p *= 2; return q->c + q->z[0] + (p - q->z == " + place + "); }");
+            b.ends(30, "struct S { int a; int b; }; char y[" + place + "]; struct S s; int main() { struct S t; struct S *q = &t; s.b = 30; t = s; s.b = 2; struct S w = *q; return w.b; }");
+        }
+    }
+
+    /** Elements of one byte, of two, and of so many that a step needs more than 12 bits. */
+    private static void elements(Bench b) {
+        for (int size : new int[] {1, 2, 3, 4, 5, 8, 12, 100, 2046, 2047, 2048, 2049}) {
+            String ahead = "struct E { char c[" + size + "]; }; char m[4]; int main() { struct E *p = (struct E *) m; int i = 3; ";
+            b.ends(3 * size, ahead + "return (char *) &p[i] - m; }");
+            b.ends(3 * size, ahead + "return (char *) &p[3] - m; }");
+            b.ends(3 * size, ahead + "return (char *) (p + i) - m; }");
+            b.ends(3 * size, ahead + "return (char *) (i + p) - m; }");
+            b.ends(-3 * size, ahead + "return (char *) (p - i) - m; }");
+            b.ends(size, ahead + "p++; return (char *) p - m; }");
+            b.ends(-size, ahead + "--p; return (char *) p - m; }");
+            b.ends(3 * size, ahead + "p += i; return (char *) p - m; }");
+            b.ends(3 * size, ahead + "p += 3; return (char *) p - m; }");
+            b.ends(-3 * size, ahead + "p -= i; return (char *) p - m; }");
+            b.ends(3, ahead + "return p + i - p; }");
+            b.ends(-3, ahead + "return p - (p + i); }");
+            b.ends(2 * size, ahead + "p++; return (char *) (p++ + 1) - m; }");
+        }
+    }
+
+    /** Calls with up to eight arguments behind up to 20 parts that wait. */
+    private static void manyArguments(Bench b) {
+        String params = "";
+        String sum = "0";
+        String handed = "";
+        int value = 0;
+        for (int count = 1; count <= 8; count++) {
+            String comma = count == 1 ? "" : ", ";
+            params += comma + "int a" + count;
+            handed += comma + "x + " + count;
+            sum = "(" + sum + ") * 3 + a" + count;
+            value = value * 3 + 7 + count;
+            // It uses as many registers as its caller does.
+            String busy = "x - (".repeat(15) + "x" + ")".repeat(15);
+            String callee = "int f(" + params + ") { int x = 1; return (" + busy + ") * 0 + " + sum + "; } ";
+            for (int parts = 0; parts <= 20; parts++) {
+                String e = "x + (".repeat(parts) + "f(" + handed + ")" + ")".repeat(parts);
+                b.ends(value + 7 * parts, callee + "int main() { int x = 7; return " + e + "; }");
+            }
+        }
+    }
+
+    /** What 200 FRAMES keep waiting at once, and what is left of that when a run ends amid it. */
+    private static void waiting(Bench b) {
+        String nested = "n + (".repeat(20) + "f(n - 1)" + ")".repeat(20);
+        String text = "int f(int n) { if (n) return " + nested + "; return 100 / (get() + 1); } int main() { return f(180); }";
+        WordFoundry x = b.fresh();
+        b.due(text, Bench.cast(x, text), 0);
+        for (int k = 0; k < 60; k++) {
+            x.begin(4096);
+            x.go(1000);
+            b.due("it TRAPPED", x.look(2), 1);
+        }
+        Bench.feed(x, "1");
+        x.supply();
+        x.begin(4096);
+        x.go(1000);
+        b.due("ended", x.look(1), 3);
+        b.due("with the sum", x.look(2), 20 * 180 * 181 / 2 + 100 / 50);
     }
 }
