@@ -631,8 +631,9 @@ public final class RunTest {
 
     /** What 200 FRAMES keep waiting at once, and what is left of that when a run ends amid it. */
     private static void waiting(Bench b) {
-        String nested = "n + (".repeat(20) + "f(n - 1)" + ")".repeat(20);
-        String text = "int f(int n) { if (n) return " + nested + "; return 100 / (get() + 1); } int main() { return f(180); }";
+        // Without INPUT all that waits is less than 0.
+        String nested = "k * n + (".repeat(20) + "f(n - 1)" + ")".repeat(20);
+        String text = "int k; int f(int n) { if (n) return " + nested + "; return 100 / (get() + 1); } int main() { k = get(); return f(180); }";
         WordFoundry x = b.fresh();
         b.due(text, Bench.cast(x, text), 0);
         for (int k = 0; k < 60; k++) {
@@ -640,7 +641,7 @@ public final class RunTest {
             x.go(1000);
             b.due("it TRAPPED", x.look(2), 1);
         }
-        Bench.feed(x, "1");
+        Bench.feed(x, "\u00011");
         x.supply();
         x.begin(4096);
         x.go(1000);
