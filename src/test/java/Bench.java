@@ -1,15 +1,28 @@
 /** What the tests share: it feeds texts to a foundry, compares answers with what is due, and counts what is wrong. */
 final class Bench {
+    private static final int CALLS = 512;
+
     private int wrong = 0;
     private int asked = 0;
     private String sentence = "";
     private int askedBefore = -1;
-    private WordFoundry foundry = new WordFoundry();
+    // One object for many texts, as long as its calls are promised to be answered.
+    private WordFoundry caster = new WordFoundry();
+    private int calls = 0;
 
     /** A new object, for what a test does next. */
     WordFoundry fresh() {
-        foundry = new WordFoundry();
-        return foundry;
+        return new WordFoundry();
+    }
+
+    private int castNext(String text) {
+        int needed = (text.length() + 23) / 24 + 1;
+        if (calls + needed > CALLS) {
+            caster = new WordFoundry();
+            calls = 0;
+        }
+        calls += needed;
+        return cast(caster, text);
     }
 
     void due(String what, long got, long want) {
@@ -77,14 +90,14 @@ final class Bench {
 
     /** A text that is right. */
     void right(String text) {
-        due(text, cast(fresh(), text), 0);
+        due(text, castNext(text), 0);
     }
 
     /** A text with a fault at the place of the sign @, which itself is no part of it. */
     void fault(int number, String marked) {
         int place = marked.indexOf('@');
         String text = marked.substring(0, place) + marked.substring(place + 1);
-        due(marked, cast(fresh(), text), 16 * place + number);
+        due(marked, castNext(text), 16 * place + number);
     }
 
     /** A fault in the BLOCK of main, behind some declarations that many tests need. */

@@ -55,6 +55,7 @@ public final class OperatorEdgesTest {
         ranks(b);
         folds(b);
         results(b);
+        outermost(b);
         b.close();
     }
 
@@ -170,6 +171,29 @@ public final class OperatorEdgesTest {
         }
         for (String e : new String[] {"i << u", "i >> u", "c << u", "i = u", "i += u", "c = u"}) {
             b.ends(1, Bench.WORLD + "int main() { return (" + e + ") - 9 < 0; }");
+        }
+    }
+
+    /** No E but one of its own struct can be the INIT of a struct: 5 AT it. */
+    private static void outermost(Bench b) {
+        b.about("AT an E is at its outermost operator: of CALLS, CASTS at their (, of indices at their [, of ? at that; without one at its first sign; of ( E ) AT E");
+        String[] marked = {"@i", "@5", "@0x5", "@'a'", "@\"a\"", "@E5", "@s", "@-i", "@~i", "@!i", "@&i", "@*p", "@++i", "@--i", "i@++", "i@--", "@(int) i", "@(void) i", "@sizeof i", "@sizeof (int)", "@sizeof (i)",
+            "f@(1, q)", "vf@()", "arr@[0]", "s@.a", "ps@->a", "i @? 1 : 2", "i @= 1", "(1@, 2)", "(@i)", "((@5))", "(((i @+ 1)))", "((@-i))", "(f@(1, q))", "i + 1 @+ 2", "i - 1 @- 2", "i @- (1 - 2)", "i @+ 1 * 2",
+            "i * 1 @+ 2", "i @= i = 1", "(i = 1) @+ 1", "i @? 1 : i ? 2 : 3", "(i ? 1 : 2) @? 3 : 4", "i + 1 @? 2 : 3", "@-i++", "@*p++", "(*p)@++", "@++*p", "@-ps->a", "m[0]@[1]", "ps->r@[1]", "s.r@[0]", "@&s.r[1]",
+            "(*ps)@.a", "(&s)@->a", "f(1, q) @+ f(1, q)", "@-f(1, q)", "@!arr[0]", "sizeof i @+ 1", "(int) i @+ 1", "@(int) -i", "@-(int) i", "@(int) (char) i", "i && i @|| i", "i @|| i && i", "i | i @&& i", "(1, 2@, 3)",
+            "(1@, (2, 3))", "f@(i + 1, q)", "arr@[i + 1]", "i @= i + 1", "i @+= i ? 1 : 2", "arr[0] @= arr[1]", "- 1 @- - 1", "@sizeof -i", "@sizeof arr[0]", "i == 1 @& 1", "i & 1 @^ 1"};
+        for (String e : marked) {
+            b.faultIn(5, "struct T z = " + e + ";");
+        }
+        for (String[] rank : RANKS) {
+            for (String op : rank) {
+                b.faultIn(5, "struct T z = i @" + op + " i;");
+                b.faultIn(5, "struct T z = (c) @" + op + " (-i);");
+            }
+        }
+        for (String op : new String[] {"=", "+=", "-=", "*=", "/=", "%=", "&=", "|=", "^=", "<<=", ">>="}) {
+            b.faultIn(5, "struct T z = i @" + op + " i;");
+            b.faultIn(5, "struct T z = (i @" + op + " i + 1);");
         }
     }
 
