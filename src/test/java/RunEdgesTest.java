@@ -15,6 +15,7 @@ public final class RunEdgesTest {
         switches(b);
         addresses(b);
         alignment(b);
+        writesThatTrap(b);
         places(b);
         copies(b);
         reads(b);
@@ -328,6 +329,33 @@ public final class RunEdgesTest {
         b.traps(2, "int main() { @*(int *) 4093; }");
         b.traps(2, "int main() { @*(int *) 62; }");
         b.traps(3, "int main() { @*(int *) 65; }");
+    }
+
+    private static void writesThatTrap(Bench b) {
+        b.about("A TRAP ends it, with its place: nothing is written any more");
+        int[] at = {61, 62, 63, 65, 66, 67, 1021, 1022, 1023};
+        for (int address : at) {
+            String text = "int main() { int v = 0x7f7f7f7f; put(1); *(int *) " + address + " = v; put(2); }";
+            WordFoundry x = begun(b, text, 1024);
+            x.go(1);
+            b.due("TRAP at " + address, x.look(2), address < 64 || address > 1020 ? 2 : 3);
+            b.due("place", x.look(3), text.indexOf("*(int"));
+            for (int k = 0; k < 8; k++) {
+                int byteAt = address - 2 + k;
+                int due = byteAt >= 1024 ? -1 : byteAt >= 1020 ? 0x7f : 0;
+                b.due("byte " + byteAt + " behind a write to " + address, x.peek(byteAt), due);
+            }
+            b.due("what was put", x.look(5), 1);
+            b.due("none stands", x.go(1), -1);
+        }
+        for (String e : new String[] {"*p += 5", "(*p)++", "--*p", "*p |= 1"}) {
+            WordFoundry x = begun(b, "int a[2] = {1, 2}; int main() { int *p = (int *) 66; " + e + "; a[0] = 9; }", 1024);
+            x.go(1);
+            b.due("TRAP 3 of " + e, x.look(2), 3);
+            b.due("a[0]", x.peek(64), 1);
+            b.due("between", x.peek(66), 0);
+            b.due("a[1]", x.peek(68), 2);
+        }
     }
 
     private static void places(Bench b) {
